@@ -1484,7 +1484,11 @@ public final class TaintHouse {
                 case NULL: give(REF); break;
                 case LOAD: give(kindOfLocal(local)); break;
                 case STORE: setLocal(local, takeAny()); break;
-                case INC: sound = sound && kindOfLocal(local) == INT; break;
+                case INC:
+                    if (kindOfLocal(local) != INT) {
+                        sound = false;
+                    }
+                    break;
                 case DUP:
                     int kind = takeAny();
                     give(kind);
