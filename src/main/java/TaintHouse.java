@@ -73,7 +73,8 @@ public final class TaintHouse {
     private static final String CALL_WORDS = "call virt ret throw";
     private static final String TYPE_WORDS = "is as";
     private static final String MARK_WORDS = "source sink clean mark";
-    private static final String FIRST_NAMES = "Any Fault NullFault BoundsFault SizeFault DivideFault CastFault";
+    private static final String FIRST_NAMES =
+        "Any Fault NullFault BoundsFault SizeFault DivideFault CastFault";
 
     private static final int CLASS = 0;
     private static final int FIELD = 1;
@@ -461,7 +462,8 @@ public final class TaintHouse {
             length = count;
             size = 0;
             int at = skipBlanks(0);
-            while (at < length) {
+            // Each round takes a byte at least.
+            for (int round = 0; at < length && round < TAPE_LIMIT; round++) {
                 at = skipBlanks(scanToken(at));
             }
             addToken(FINISH, length);
@@ -530,6 +532,7 @@ public final class TaintHouse {
             size++;
         }
 
+        /** A chain ends, since each name in it is older than the one ahead of it. */
         private int numberOfName(long front, int back) {
             int chain = chainOf(front, back);
             for (int name = chainHead[chain]; name != NONE; name = nextInChain[name]) {
@@ -577,7 +580,8 @@ public final class TaintHouse {
         }
 
         private static boolean isSign(char c) {
-            return c == '{' || c == '}' || c == '(' || c == ')' || c == ';' || c == ':' || c == ',' || c == '-';
+            return c == '{' || c == '}' || c == '(' || c == ')'
+                || c == ';' || c == ':' || c == ',' || c == '-';
         }
     }
 
@@ -739,7 +743,7 @@ public final class TaintHouse {
             lastType().routineTo = routineCount;
         }
 
-        /** The first class of this name. */
+        /** The first class of this name; of members below, the nearest one, from a class upwards. */
         int findType(int name) {
             for (int i = 0; i < typeCount; i++) {
                 if (types[i].name == name) {
@@ -815,7 +819,8 @@ public final class TaintHouse {
         private static final int IN_TYPE = 1;
         private static final int IN_ROUTINE = 2;
         private static final long INT_LIMIT = 2147483647L;
-        private static final long STEP_OF_INC = 32767L;
+        private static final long INC_LIMIT = 32767L;
+        private static final long NO_MINUS = -1L;
 
         private final Scanner scanner;
         private final Binder binder;
@@ -1046,44 +1051,38 @@ public final class TaintHouse {
                     return takeName();
                 case GET: case PUT: case GETS: case PUTS: case CALL: case VIRT:
                     return takeName() && takeName();
-                case LOAD: case STORE: case SOURCE: case SINK:
-                    return readFirstNumber(LOCALS - 1);
+                case LOAD: case STORE:
+                    return takeNumber(LOCALS - 1, NO_MINUS) && keepFirst();
+                case SOURCE: case SINK:
+                    return takeNumber(CHANNELS - 1, NO_MINUS) && keepFirst();
                 case CLEAN: case MARK:
-                    return readFirstNumber(ALL_MARKS);
+                    return takeNumber(ALL_MARKS, NO_MINUS) && keepFirst();
                 case PUSH:
-                    if (!takeSignedNumber(INT_LIMIT, INT_LIMIT + 1)) {
-                        return false;
-                    }
-                    program.code.first[program.code.size] = taken;
-                    return true;
+                    return takeNumber(INT_LIMIT, INT_LIMIT + 1) && keepFirst();
                 case INC:
-                    if (!readFirstNumber(LOCALS - 1) || !takeSignedNumber(STEP_OF_INC, STEP_OF_INC)) {
-                        return false;
-                    }
-                    program.code.second[program.code.size] = taken;
-                    return true;
+                    return takeNumber(LOCALS - 1, NO_MINUS) && keepFirst()
+                        && takeNumber(INC_LIMIT, INC_LIMIT) && keepSecond();
                 default:
                     return true;
             }
         }
 
-        private boolean readFirstNumber(long limit) {
-            if (!takeNumber(limit, false)) {
-                return false;
-            }
+        private boolean keepFirst() {
             program.code.first[program.code.size] = taken;
             return true;
         }
 
-        private boolean takeSignedNumber(long limit, long limitBelow) {
-            if (next() != -'-') {
-                return takeNumber(limit, false);
-            }
-            token++;
-            return takeNumber(limitBelow, true);
+        private boolean keepSecond() {
+            program.code.second[program.code.size] = taken;
+            return true;
         }
 
-        private boolean takeNumber(long limit, boolean negative) {
+        /** A number up to a limit, or, with - ahead, up to the one for this. */
+        private boolean takeNumber(long limit, long limitWithMinus) {
+            boolean minus = limitWithMinus != NO_MINUS && next() == -'-';
+            if (minus) {
+                token++;
+            }
             if (next() != Scanner.NUMBER) {
                 return refuse();
             }
@@ -1091,11 +1090,12 @@ public final class TaintHouse {
                 wrong = scanner.start[token] + 1;
                 return false;
             }
-            long number = scanner.numberUpTo(token, limit);
-            if (number > limit) {
+            long most = minus ? limitWithMinus : limit;
+            long number = scanner.numberUpTo(token, most);
+            if (number > most) {
                 return refuse();
             }
-            taken = (int) (negative ? -number : number);
+            taken = (int) (minus ? -number : number);
             token++;
             return true;
         }
@@ -1448,8 +1448,10 @@ public final class TaintHouse {
         }
 
         private void addLocals(int i) {
-            int news = intLocals & ~intLocalsAt[i] | refLocals & ~refLocalsAt[i] | unsetLocals & ~unsetLocalsAt[i];
-            if (news != 0) {
+            int newInts = intLocals & ~intLocalsAt[i];
+            int newRefs = refLocals & ~refLocalsAt[i];
+            int newUnset = unsetLocals & ~unsetLocalsAt[i];
+            if ((newInts | newRefs | newUnset) != 0) {
                 fresh[i] = true;
                 intLocalsAt[i] |= intLocals;
                 refLocalsAt[i] |= refLocals;

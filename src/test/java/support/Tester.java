@@ -63,21 +63,48 @@ final class Tester {
         return house;
     }
 
-    void dueText(String text, int want, int wantPlace) {
+    private void dueText(String text, int want, int wantPlace) {
         TaintHouse house = new TaintHouse();
         due("text() of " + text, read(house, text), want);
         due("place() of " + text, house.place(), wantPlace);
+        due("count(4) behind text()", house.count(4), 0);
     }
 
-    void dueWrong(String text, int at) {
-        dueText(text, -1 - at, TaintHouse.NONE);
+    /** The place of ~ in a text is the one that is due; the text that is read has no ~ in it. */
+    void dueWrong(String marked) {
+        dueText(marked.replace("~", ""), -1 - marked.indexOf('~'), TaintHouse.NONE);
     }
 
-    void dueFault(String text, int kind, int at) {
-        dueText(text, -5000 - kind, at);
+    void dueFault(int kind, String marked) {
+        dueText(marked.replace("~", ""), -5000 - kind, marked.indexOf('~'));
     }
 
     void dueRight(String text, int methods) {
         dueText(text, methods, TaintHouse.NONE);
+    }
+
+    /** Runs a method of a new object with this text, and looks at how it ends, with what. */
+    TaintHouse dueRun(String text, int method, int ending, int value, int marks) {
+        TaintHouse house = house(text);
+        dueRun(house, text, method, ending, value, marks);
+        return house;
+    }
+
+    void dueRun(TaintHouse house, String text, int method, int ending, int value, int marks) {
+        due("run(" + method + ") of " + text, house.run(method), ending);
+        due("result(0) of " + text, house.result(0), ending);
+        due("result(1) of " + text, house.result(1), value);
+        due("result(2) of " + text, house.result(2), marks);
+    }
+
+    /** The code of a method that answers an int, run with input k being k + 1. */
+    TaintHouse dueInt(String code, int value, int marks) {
+        String text = "class A { field x int; field r ref; static s int; method f() int { " + code + " } }";
+        TaintHouse house = house(text);
+        for (int k = 0; k < 16; k++) {
+            house.input(k, k + 1);
+        }
+        dueRun(house, text, 0, 1, value, marks);
+        return house;
     }
 }

@@ -1,0 +1,230 @@
+/** Promises 4, 5 and 17: fault 5, what instructions take and give, and how deep a stack becomes. */
+public final class CodeFaultTest {
+    private static final Tester T = new Tester();
+
+    public static void main(String[] args) {
+        whatInstructionsTake();
+        results();
+        locals();
+        depths();
+        endsOfMethods();
+        stacksThatDiffer();
+        tries();
+        order();
+        deepest();
+        T.finish();
+    }
+
+    /** A method that answers nothing; class A has all that instructions may ask for. */
+    private static String code(String items) {
+        return code("() none", items);
+    }
+
+    private static String code(String head, String items) {
+        return "class A { field x int; field r ref; static s int; static t ref; method m(int, ref) int { push 1; ret; }"
+            + " method n() none { ret; } virtual v(ref, int) ref { null; ret; } method f" + head + " { " + items + "} }";
+    }
+
+    /** Pushes of kinds: i an int, r a ref. */
+    private static String pushes(String kinds) {
+        StringBuilder all = new StringBuilder();
+        for (char kind : kinds.toCharArray()) {
+            all.append(kind == 'i' ? "push 1; " : "null; ");
+        }
+        return all.toString();
+    }
+
+    /** Takes the kinds from the stack, the last one first. */
+    private static String takes(String kinds) {
+        StringBuilder all = new StringBuilder();
+        for (int i = kinds.length() - 1; i >= 0; i--) {
+            all.append(kinds.charAt(i) == 'i' ? "sink 0; " : "as Any; pop; ");
+        }
+        return all.toString();
+    }
+
+    private static void whatInstructionsTake() {
+        String[] table = {"push 1: >i", "null: >r", "add: ii>i", "sub: ii>i", "mul: ii>i", "div: ii>i", "rem: ii>i",
+            "and: ii>i", "or: ii>i", "xor: ii>i", "shl: ii>i", "shr: ii>i", "ushr: ii>i", "neg: i>i", "ifeq L: i>",
+            "ifne L: i>", "iflt L: i>", "ifge L: i>", "ifgt L: i>", "ifle L: i>", "cmpeq L: ii>", "cmpne L: ii>",
+            "cmplt L: ii>", "cmpge L: ii>", "cmpgt L: ii>", "cmple L: ii>", "ifnull L: r>", "ifsome L: r>",
+            "same L: rr>", "other L: rr>", "new A: >r", "get A x: r>i", "get A r: r>r", "put A x: ri>",
+            "put A r: rr>", "gets A s: >i", "gets A t: >r", "puts A s: i>", "puts A t: r>", "ints: i>r", "refs: i>r",
+            "iget: ri>i", "iput: rii>", "rget: ri>r", "rput: rir>", "length: r>i", "call A m: ir>i", "call A n: >",
+            "virt A v: rri>r", "is A: r>i", "as A: r>r", "source 3: >i", "sink 3: i>", "clean 1: i>i", "mark 1: i>i",
+            "goto L: >"};
+        for (String row : table) {
+            String word = row.substring(0, row.indexOf(':'));
+            String took = row.substring(row.indexOf(' ', row.indexOf(':')) + 1, row.indexOf('>'));
+            String gave = row.substring(row.indexOf('>') + 1);
+            T.dueRight(code(pushes(took) + word + "; L: " + takes(gave) + "ret;"), 4);
+            for (int i = 0; i < took.length(); i++) {
+                T.dueFault(5, code(pushes(took.substring(i + 1)) + "~" + word + "; L: ret;"));
+                char other = took.charAt(i) == 'i' ? 'r' : 'i';
+                String changed = took.substring(0, i) + other + took.substring(i + 1);
+                T.dueFault(5, code(pushes(changed) + "~" + word + "; L: ret;"));
+            }
+            // What it gives has the kind that is told, and it gives no more.
+            if (!gave.isEmpty()) {
+                String other = gave.equals("i") ? "~throw;" : "~sink 0;";
+                T.dueFault(5, code(pushes(took) + word + "; L: " + other + " ret;"));
+            }
+            T.dueFault(5, code(pushes(took) + word + "; L: " + takes(gave) + "~pop; ret;"));
+        }
+        for (String kind : new String[] {"i", "r"}) {
+            T.dueRight(code(pushes(kind) + "dup; " + takes(kind + kind) + "ret;"), 4);
+            T.dueRight(code(pushes(kind) + "pop; ret;"), 4);
+            T.dueRight(code(pushes(kind) + "store 3; load 3; " + takes(kind) + "ret;"), 4);
+            T.dueFault(5, code(pushes(kind) + "~swap; ret;"));
+        }
+        T.dueRight(code(pushes("ir") + "swap; " + takes("ri") + "ret;"), 4);
+        T.dueRight(code(pushes("ri") + "swap; " + takes("ir") + "ret;"), 4);
+        T.dueFault(5, code(pushes("ir") + "swap; ~as Any; ret;"));
+        for (String word : new String[] {"dup", "pop", "swap", "store 1", "throw"}) {
+            T.dueFault(5, code("~" + word + "; ret;"));
+        }
+        T.dueFault(5, code(pushes("i") + "~throw;"));
+        T.dueRight(code(pushes("ir") + "throw;"), 4);
+    }
+
+    private static void results() {
+        T.dueRight(code("() none", "push 1; null; ret;"), 4);
+        T.dueRight(code("() int", "null; push 1; ret;"), 4);
+        T.dueRight(code("() ref", "push 1; null; ret;"), 4);
+        T.dueFault(5, code("() int", "~ret;"));
+        T.dueFault(5, code("() int", "push 1; null; ~ret;"));
+        T.dueFault(5, code("() ref", "~ret;"));
+        T.dueFault(5, code("() ref", "null; push 1; ~ret;"));
+    }
+
+    private static void locals() {
+        T.dueRight(code("(int, ref) none", "load 0; sink 0; load 1; throw;"), 4);
+        T.dueFault(5, code("(int, ref) none", "load 0; ~throw;"));
+        T.dueFault(5, code("(int, ref) none", "load 1; ~sink 1; ret;"));
+        T.dueFault(5, code("(int, ref) none", "~load 2; ret;"));
+        T.dueFault(5, code("() none", "~load 0; ret;"));
+        T.dueFault(5, code("() none", "~inc 15 1; ret;"));
+        T.dueFault(5, code("(ref) none", "~inc 0 1; ret;"));
+        T.dueRight(code("(int) none", "inc 0 1; ret;"), 4);
+        T.dueRight(code("(int, int, int, int, int, ref) none", "load 5; throw;"), 4);
+        String virtual = "class A { virtual v(int, ref) none { load 0; throw; load 1; sink 0; load 2; throw; } }";
+        T.dueRight(virtual, 1);
+        T.dueFault(5, virtual.replace("load 0; throw;", "load 0; ~sink 0;"));
+        T.dueFault(5, virtual.replace("load 0; throw;", "load 1; ~throw;"));
+        T.dueFault(5, virtual.replace("load 0; throw;", "load 2; ~sink 0;"));
+        T.dueFault(5, virtual.replace("load 0; throw;", "~load 3;"));
+        // Stores change what a local is; ways that meet leave it all that it may be.
+        T.dueRight(code("(int) none", "null; store 0; load 0; throw;"), 4);
+        T.dueFault(5, code("(int) none", "null; store 0; load 0; ~sink 0; ret;"));
+        T.dueFault(5, code("(int) none", "load 0; ifeq x; push 1; store 1; x: ~load 1; ret;"));
+        T.dueFault(5, code("(int) none", "load 0; ifeq x; null; store 0; x: ~load 0; ret;"));
+        T.dueFault(5, code("(int) none", "load 0; ifeq x; null; store 0; x: ~inc 0 1; ret;"));
+        T.dueRight(code("(int) none", "load 0; ifeq x; null; store 0; x: ret;"), 4);
+        T.dueRight(code("(int) none", "load 0; ifeq x; null; store 0; x: push 1; store 0; inc 0 1; load 0; sink 0; ret;"), 4);
+        T.dueFault(5, code("(int) none", "x: ~load 0; sink 0; null; store 0; goto x;"));
+        T.dueFault(5, code("(int) none", "x: ~inc 0 1; null; store 0; goto x;"));
+        // What a local gains goes on from instruction to instruction, round by round.
+        T.dueFault(5, code("(int) none", "goto b; a: ~load 1; sink 0; ret; b: push 1; store 1; load 0; ifeq a;"
+            + " null; store 1; goto a;"));
+    }
+
+    private static void depths() {
+        String sixteen = pushes("iiiiiiiiiiiiiiii");
+        T.dueRight(code(sixteen + "ret;"), 4);
+        T.dueFault(5, code(sixteen + "~push 1; ret;"));
+        T.dueFault(5, code(sixteen + "~dup; ret;"));
+        T.dueFault(5, code(sixteen + "~null; ret;"));
+        T.dueFault(5, code(sixteen + "~gets A s; ret;"));
+        T.dueFault(5, code(sixteen + "~source 0; ret;"));
+        T.dueFault(5, code(sixteen + "~new A; ret;"));
+        T.dueFault(5, code("(int) none", sixteen + "~load 0; ret;"));
+        T.dueRight(code(sixteen + "swap; neg; add; dup; ret;"), 4);
+        T.dueRight(code(pushes("rrrrrrrrrrrrrrrr") + "swap; as A; throw;"), 4);
+        T.dueRight(code(pushes("rrrrrrrrrrrrrrir") + "call A m; sink 0; ret;"), 4);
+    }
+
+    private static void endsOfMethods() {
+        T.dueFault(5, code("~"));
+        T.dueFault(5, code("x: ~"));
+        T.dueFault(5, code("push 1; ~"));
+        T.dueFault(5, code("push 1; x: ~"));
+        T.dueFault(5, code("goto x; x: ~"));
+        T.dueFault(5, code("push 1; ifeq x; ret; x: ~"));
+        T.dueFault(5, code("call A n; ~"));
+        T.dueRight(code("ret; x:"), 4);
+        T.dueRight(code("x: goto x;"), 4);
+        T.dueRight(code("ret; push 1;"), 4);
+        T.dueRight(code("ret; goto x; x:"), 4);
+        T.dueRight(code("null; throw; add; sub;"), 4);
+    }
+
+    private static void stacksThatDiffer() {
+        T.dueFault(5, code("x: ~push 1; goto x;"));
+        T.dueFault(5, code("push 1; ifeq x; push 1; x: ~ret;"));
+        T.dueFault(5, code("push 1; push 1; ifeq x; pop; null; x: ~ret;"));
+        T.dueFault(5, code("null; push 1; push 1; ifeq x; pop; pop; push 1; null; x: ~ret;"));
+        T.dueRight(code("push 1; push 1; ifeq x; pop; push 2; x: ret;"), 4);
+    }
+
+    private static void tries() {
+        T.dueRight(code("a: push 1; pop; ret; b: throw; try a b b Any;"), 4);
+        T.dueFault(5, code("a: push 1; pop; ret; b: ~sink 0; ret; try a b b Any;"));
+        T.dueFault(5, code("a: push 1; pop; b: ~ret; try a b b Any;"));
+        // Every instruction comes to it: goto, ret and throw, too.
+        for (String one : new String[] {"goto c;", "ret;", "null; throw;"}) {
+            T.dueFault(5, code("a: " + one + " b: c: ret; d: ~add; try a b d Any;"));
+        }
+        T.dueRight(code("a: ret; b: ret; c: add; try b c c Any;"), 4);
+        T.dueFault(5, code("goto b; a: ret; b: ret; c: ~add; try b c c Any;"));
+        T.dueRight(code("goto b; a: ret; b: ret; c: add; try a b c Any;"), 4);
+        // A label at the end is none to come to, but may be the second one of a try.
+        T.dueRight(code("goto a; x: pop; ret; a: ret; b: try a b x Any;"), 4);
+        T.dueFault(5, code("a: ret; b: try a b b Any; ~"));
+        T.dueRight(code("ret; a: ret; b: try a b b Any;"), 4);
+        // With the locals ahead of the instruction: a store shows only behind it.
+        T.dueFault(5, code("push 1; a: store 0; b: ret; c: ~load 0; ret; try a b c Any;"));
+        T.dueFault(5, code("push 1; a: store 0; load 0; b: ret; c: ~load 0; ret; try a b c Any;"));
+        T.dueRight(code("push 1; store 0; a: load 0; b: ret; c: load 0; ret; try a b c Any;"), 4);
+        T.dueFault(5, code("(int) none", "null; a: store 0; load 0; b: ret; c: ~load 0; ret; try a b c Any;"));
+        T.dueRight(code("(int) none", "null; a: store 0; b: ret; c: load 0; sink 0; ret; try a b c Any;"), 4);
+    }
+
+    private static void order() {
+        // Methods in order; the first fault that is found ends it.
+        T.dueFault(5, "class A { method f() none { ret; } method g() none { ~add; } method h() none { sub; } }");
+        // The lowest instruction first, also where one that is higher was come to earlier.
+        T.dueFault(5, code("goto b; a: ~add; b: push 1; ifeq a; sub;"));
+        T.dueFault(5, code("push 1; ifeq b; a: ~add; b: sub;"));
+        T.dueFault(5, code("goto b; a: push 1; ~throw; b: push 1; ifeq a; sub;"));
+        // What is behind an instruction: the next one, then the label, then tries as they stand.
+        T.dueFault(5, code("x: push 1; push 1; ifeq x; ~"));
+        T.dueFault(5, code("x: ~push 1; dup; ifeq x; y: ret;"));
+        T.dueFault(5, code("goto b; a: pop; ret; b: push 1; push 1; goto c; d: ret; c: ifeq a; ~"));
+        T.dueFault(5, code("a: push 1; b: dup; ifeq a; c: ~ret; try b c c Any;"));
+        T.dueFault(5, code("goto b; a: ret; b: push 1; c: ~pop; d: ret; try b c d Any; try b c c Any;"));
+        T.dueFault(5, code("a: push 1; b: ret; c: ~add; d: sub; try a b d Any; try a b c Any;"));
+        T.dueFault(5, code("a: push 1; b: ~pop; c: ret; try a b b Any;"));
+        T.dueFault(5, code("null; a: pop; b: ~ret; d: try a b b Any; try a b d Any;"));
+        T.dueFault(5, code("null; a: pop; b: ret; d: try a b d Any; try a b b Any; ~"));
+    }
+
+    private static void deepest() {
+        deepest(0, "() none", "ret;");
+        deepest(0, "() none", "x: goto x;");
+        deepest(0, "(int, int) none", "ret;");
+        deepest(1, "() none", "push 1; ret;");
+        deepest(1, "() none", "push 1; pop; ret;");
+        deepest(2, "() none", "push 1; push 1; add; pop; ret;");
+        deepest(0, "() none", "ret; push 1; push 1; add; pop; ret;");
+        deepest(3, "() none", "push 1; ifeq x; ret; x: null; null; null; throw;");
+        deepest(16, "() none", pushes("iiiiiiiiiiiiiiii") + "ret;");
+        deepest(1, "() none", "a: ret; b: pop; ret; try a b b Any;");
+        // What is given last and then not taken by an instruction that is come to isn't ahead of one.
+        deepest(1, "() int", "push 1; ret;");
+    }
+
+    private static void deepest(int want, String head, String items) {
+        TaintHouse house = T.house("class A { method f" + head + " { " + items + " } }");
+        T.due("method(0, 5) of " + items, house.method(0, 5), want);
+    }
+}
