@@ -1030,8 +1030,6 @@ public final class TaintHouse {
             }
             code.word[code.size] = word;
             code.token[code.size] = token;
-            code.first[code.size] = 0;
-            code.second[code.size] = 0;
             token++;
             return true;
         }

@@ -12,6 +12,7 @@ public final class CodeFaultTest {
         tries();
         order();
         deepest();
+        anotherTextIsLookedAtAnew();
         T.finish();
     }
 
@@ -123,6 +124,15 @@ public final class CodeFaultTest {
         T.dueRight(code("(int) none", "load 0; ifeq x; null; store 0; x: push 1; store 0; inc 0 1; load 0; sink 0; ret;"), 4);
         T.dueFault(5, code("(int) none", "x: ~load 0; sink 0; null; store 0; goto x;"));
         T.dueFault(5, code("(int) none", "x: ~inc 0 1; null; store 0; goto x;"));
+        for (int k = 1; k < 16; k++) {
+            T.dueFault(5, code("(int) none", "load 0; ifeq x; push 1; store " + k + "; x: ~load " + k + "; ret;"));
+            T.dueFault(5, code("(int) none", "load 0; ifeq x; null; store " + k + "; x: ~load " + k + "; ret;"));
+        }
+        T.dueFault(5, code("(ref) none", "load 0; ifnull x; push 1; store 0; x: ~load 0; ret;"));
+        T.dueFault(5, code("(ref) none", "load 0; ifnull x; push 1; store 0; x: ~inc 0 1; ret;"));
+        T.dueFault(5, code("(int) none", "load 0; ifeq y; push 1; store 1; x: ~load 1; ret; y: goto x;"));
+        T.dueFault(5, code("(int) none", "load 0; ifeq y; push 1; store 1; x: ~inc 1 1; ret; y: null; store 1; goto x;"));
+        T.dueFault(5, code("(int) none", "load 0; ifeq y; null; store 1; x: ~load 1; ret; y: push 1; store 1; goto x;"));
         // What a local gains goes on from instruction to instruction, round by round.
         T.dueFault(5, code("(int) none", "goto b; a: ~load 1; sink 0; ret; b: push 1; store 1; load 0; ifeq a;"
             + " null; store 1; goto a;"));
@@ -221,6 +231,14 @@ public final class CodeFaultTest {
         deepest(1, "() none", "a: ret; b: pop; ret; try a b b Any;");
         // What is given last and then not taken by an instruction that is come to isn't ahead of one.
         deepest(1, "() int", "push 1; ret;");
+    }
+
+    /** A fault leaves instructions that were come to and not looked at; the next text has none of them. */
+    private static void anotherTextIsLookedAtAnew() {
+        TaintHouse house = new TaintHouse();
+        T.due("text() with a fault", Tester.read(house, code("push 1; ifeq b; add; b: ret;")), -5005);
+        T.due("text() that is right", Tester.read(house, code("ret; ret; ret; add; sub; ret;")), 4);
+        T.due("method(3, 5)", house.method(3, 5), 0);
     }
 
     private static void deepest(int want, String head, String items) {

@@ -70,8 +70,12 @@ public final class GrammarTest {
         }
         T.dueRight("class Class { field Any int; field a ref; field A ref; }", 0);
         // Names that differ in any one sign are different ones.
-        T.dueRight("class A { field abcdefghijkl int; field abcdefghijkm int; field abcdefgxijkl int;"
-            + " field abcdefghijk int; field bbcdefghijkl int; field abcdefghijkL int; field lkjihgfedcba int; }", 0);
+        String name = "abcdefghijkl";
+        for (int i = 0; i < 12; i++) {
+            String other = name.substring(0, i) + "Z" + name.substring(i + 1);
+            String shorter = name.substring(0, i) + name.substring(i + 1);
+            T.dueRight("class A { field " + name + " int; field " + other + " int; field " + shorter + " int; }", 0);
+        }
     }
 
     private static void numbers() {
@@ -84,11 +88,14 @@ public final class GrammarTest {
             "push 0~0", "push 0~7", "push -0~1", "push - ~-1", "push ~;", "push ~x", "push 1 ~2", "push 1~x",
             "push 1~-", "load ~16", "load ~-1", "load ~- 1", "load 1 ~1", "load 0~1", "store ~16",
             "store ~99999999999", "inc ~16 1", "inc 1 ~32768", "inc 1 - ~32768", "inc 1 ~;", "inc ~- 1 1",
-            "inc 1 0~1", "inc 1~,1", "source ~16", "sink ~16", "clean ~65536", "mark ~65536", "mark ~-1",
+            "inc 1 0~1", "inc 1~,1", "load ~150", "inc 1 ~327670",
+            "inc 1 - ~327670", "push ~21474836470", "push - ~21474836480", "mark ~655350", "source ~16", "sink ~16", "clean ~65536", "mark ~65536", "mark ~-1",
             "mark ~2147483648"};
         for (String one : wrong) {
             T.dueWrong(code("ret; " + one + ";"));
         }
+        T.dueWrong("class A { method f() none { push 0~0");
+        T.dueWrong("class A { method f() none { push 0~");
         T.due("-0", value("push -0"), 0);
         T.due("least", value("push - 2147483648"), Integer.MIN_VALUE);
         T.due("most", value("push 2147483647"), Integer.MAX_VALUE);
@@ -114,6 +121,8 @@ public final class GrammarTest {
         T.dueWrong("class A : ~{ }");
         T.dueWrong("class A : ~class { }");
         T.dueWrong("class A : B ~: C { }");
+        T.dueWrong("class A ~class B { x }");
+        T.dueWrong("class A : ~: x");
         T.dueWrong("class A { ~");
         T.dueWrong("class A { ~; }");
         T.dueWrong("class A { } ~}");
@@ -130,6 +139,10 @@ public final class GrammarTest {
         T.dueWrong("class A { field x int ~, y int; }");
         T.dueWrong("class A { static x ~y; }");
         T.dueWrong("class A { static ~0 int; }");
+        T.dueWrong("class A { static x ~static y 5 }");
+        T.dueWrong("class A { field x ~field y 5 }");
+        T.dueWrong("class A { method f() ~{ 5 } }");
+        T.dueWrong("class A { method f(int ~method f() 5 } }");
         T.dueWrong("class A { method ~( ) none { } }");
         T.dueWrong("class A { method f ~none { } }");
         T.dueWrong("class A { method f(~none) none { ret; } }");
@@ -158,6 +171,9 @@ public final class GrammarTest {
         T.dueWrong(code("add ~1; "));
         T.dueWrong(code("add ~x; "));
         T.dueWrong(code("goto ~; "));
+        T.dueWrong(code("goto ~goto 5; "));
+        T.dueWrong(code("x ~y: 5"));
+        T.dueWrong(code("try a b ~try 5"));
         T.dueWrong(code("goto ~goto; "));
         T.dueWrong(code("goto x ~y; "));
         T.dueWrong(code("new ~; "));

@@ -74,6 +74,7 @@ public final class ThrowTest {
         due(CAST, 6, 5, "push 1; refs; source 1; source 2; iput;");
         due(CAST, 2, 5, "push 1; ints; source 1; null; rput;");
         due(CAST, 0, 2, "new A; length;");
+        due(CAST, 0, 2, "new Any; length;");
         due(CAST, 0, 2, "new A; as B;");
         due(CAST, 0, 2, "new A; as C;");
         due(CAST, 0, 3, "push 1; ints; as A;");

@@ -37,6 +37,8 @@ public final class ValuesTest {
         sum("div", 7, -2, -3);
         sum("div", LEAST, -1, LEAST);
         sum("div", 0, 5, 0);
+        sum("div", 7, 1, 7);
+        sum("rem", 7, 1, 0);
         sum("rem", 7, 2, 1);
         sum("rem", -7, 2, -1);
         sum("rem", 7, -2, 1);
