@@ -164,15 +164,13 @@ public final class TaintHouse {
     private static final int TRY_ROOM = ROUTINE_LIMIT * TRY_LIMIT;
 
     private final char[] tape = new char[TAPE_LIMIT];
-    private final int[] policies = new int[CHANNELS];
-    private final int[] inputs = new int[CHANNELS];
     private final int[] argumentValues = new int[ARGUMENTS];
     private final int[] argumentMarks = new int[ARGUMENTS];
     private final Scanner scanner = new Scanner();
-    private final Binder binder = new Binder(scanner);
-    private final Parser parser = new Parser(scanner, binder);
+    private final Parser parser = new Parser();
+    private final Binder binder = new Binder();
     private final Checker checker = new Checker();
-    private final Machine machine = new Machine(inputs, policies);
+    private final Machine machine = new Machine();
     private Program program = new Program();
     private Program draft = new Program();
     private int tapeLength = 0;
@@ -207,7 +205,8 @@ public final class TaintHouse {
         scanner.scan(tape, tapeLength);
         tapeLength = 0;
         faultPlace = NONE;
-        int wrong = parser.readText(draft);
+        binder.begin(scanner, draft);
+        int wrong = parser.readText(scanner, binder, draft);
         if (wrong != NONE) {
             return -1 - wrong;
         }
@@ -233,8 +232,8 @@ public final class TaintHouse {
         if (k < 0 || k >= CHANNELS) {
             return NO_SUCH_INDEX;
         }
-        int before = policies[k];
-        policies[k] = v & ALL_MARKS;
+        int before = machine.policies[k];
+        machine.policies[k] = v & ALL_MARKS;
         return before;
     }
 
@@ -242,8 +241,8 @@ public final class TaintHouse {
         if (k < 0 || k >= CHANNELS) {
             return NONE;
         }
-        int before = inputs[k];
-        inputs[k] = v;
+        int before = machine.inputs[k];
+        machine.inputs[k] = v;
         return before;
     }
 
@@ -822,8 +821,8 @@ public final class TaintHouse {
         private static final long INC_LIMIT = 32767L;
         private static final long NO_MINUS = -1L;
 
-        private final Scanner scanner;
-        private final Binder binder;
+        private Scanner scanner;
+        private Binder binder;
         private Program program;
         private Routine routine;
         private int token = 0;
@@ -832,16 +831,12 @@ public final class TaintHouse {
         /** The kind or number that was taken last. */
         private int taken = 0;
 
-        Parser(Scanner scanner, Binder binder) {
-            this.scanner = scanner;
-            this.binder = binder;
-        }
-
         /** The place where the text is wrong, or NONE. */
-        int readText(Program into) {
+        int readText(Scanner from, Binder by, Program into) {
+            scanner = from;
+            binder = by;
             program = into;
             program.startAnew();
-            binder.begin(program);
             token = 0;
             where = OUTSIDE;
             wrong = NONE;
@@ -1140,18 +1135,15 @@ public final class TaintHouse {
 
     /** Finds out what names mean, and the first fault among them; tokens stand in order of place. */
     private static final class Binder {
-        private final Scanner scanner;
         private final int[] labelOwner = new int[NAME_ROOM];
         private final int[] labelTarget = new int[NAME_ROOM];
+        private Scanner scanner;
         private Program program;
         int faultToken = NONE;
         int faultKind = 0;
 
-        Binder(Scanner scanner) {
-            this.scanner = scanner;
-        }
-
-        void begin(Program into) {
+        void begin(Scanner from, Program into) {
+            scanner = from;
             program = into;
             faultToken = NONE;
             faultKind = 0;
@@ -1728,6 +1720,8 @@ public final class TaintHouse {
     private static final class Machine {
         private static final int FRAME_CELLS = LOCALS + STACK_LIMIT;
 
+        final int[] inputs = new int[CHANNELS];
+        final int[] policies = new int[CHANNELS];
         final Heap heap = new Heap();
         final Events events = new Events();
         int ending = NONE;
@@ -1735,8 +1729,6 @@ public final class TaintHouse {
         int endMarks = 0;
         int done = 0;
 
-        private final int[] inputs;
-        private final int[] policies;
         private Program program;
         private int flows = 0;
 
@@ -1754,11 +1746,6 @@ public final class TaintHouse {
         private int fault = NONE;
         private int thrown = NONE;
         private int next = 0;
-
-        Machine(int[] inputs, int[] policies) {
-            this.inputs = inputs;
-            this.policies = policies;
-        }
 
         boolean hasRun() {
             return ending != NONE;

@@ -108,6 +108,11 @@ public final class FullTest {
         house.argument(0, 24, 0);
         T.dueRun(house, "a full stack of the last method", 0, 1, 15, 0);
         T.dueRun(house, "full stacks that are left", 1, 1, 1000, 0);
+        String sum = "class A { method f(int) int { inc 0 - 1; load 0; ifgt x; " + times(16, "push 1; ") + times(15, "add; ")
+            + "ret; x: load 0; call A f; ret; } }";
+        TaintHouse last = T.house(sum);
+        last.argument(0, 24, 0);
+        T.dueRun(last, "a full stack of the last method", 0, 1, 16, 0);
         // A frame that was left by a throw begins anew, too.
         String thrown = "class A { method f() none { " + times(15, "push 1; ") + "null; throw; } method g() int { push 500; store 0;"
             + " a: call A f; b: push 1; ret; c: pop; inc 0 - 1; load 0; ifgt a; push 7; ret; try a b c Any; } }";

@@ -215,6 +215,8 @@ public final class GrammarTest {
         T.dueRight("class A { " + times(8, "field x% int; ") + "} class B : A { " + times(8, "field x% ref; ") + "}", 0);
         T.dueWrong("class A { " + times(8, "field x% int; ") + "~field y int; }");
         T.dueWrong("class A { " + times(8, "field x% int; ") + "} class B : A { " + times(8, "field x% ref; ") + "~field");
+        String eight = "field a int; field b ref; field c int; field d ref; field e int; field f ref; field g int; field h ref;";
+        T.dueRight(times(12, "class A% { " + eight + " } "), 0);
         T.dueRight("class A { " + times(8, "static s% int; ") + "} class B { " + times(8, "static s% ref; ") + "}", 0);
         T.dueWrong("class A { " + times(8, "static s% int; ") + "} class B { " + times(8, "static s% ref; ")
             + "~static t int; }");

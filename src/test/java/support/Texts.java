@@ -55,6 +55,9 @@ final class Texts {
     }
 
     String next() {
+        if (chance(4)) {
+            return soup();
+        }
         classes.clear();
         statics = 0;
         methods = 0;
@@ -73,6 +76,16 @@ final class Texts {
             }
         }
         return text.length() > 4000 ? text.substring(0, 4000) : text;
+    }
+
+    /** Any tokens, behind a beginning that lets them come as far as may be. */
+    private String soup() {
+        String text = any("", "class A", "class A { ", "class A { method f() none { ", "class A { virtual f(");
+        int n = random.nextInt(30);
+        for (int i = 0; i < n; i++) {
+            text += any(ODD_TOKENS) + any("", " ", " ; ", "\n");
+        }
+        return text;
     }
 
     private boolean chance(int percent) {
