@@ -13,22 +13,14 @@ public final class FullTest {
         T.finish();
     }
 
-    private static String times(int n, String part) {
-        StringBuilder all = new StringBuilder();
-        for (int i = 0; i < n; i++) {
-            all.append(part.replace("%", String.valueOf(i)));
-        }
-        return all.toString();
-    }
-
     private static String filled(String text) {
-        return times(4000 - text.length(), " ") + text;
+        return Tester.times(4000 - text.length(), " ") + text;
     }
 
     private static void tokens() {
-        T.dueWrong("~" + times(4000, "{"));
-        T.dueWrong("class A{" + "~" + times(3992, "{"));
-        T.dueWrong("class A{method f()none{" + times(1000, "a:") + "~-" + times(1976, "-"));
+        T.dueWrong("~" + Tester.times(4000, "{"));
+        T.dueWrong("class A{" + "~" + Tester.times(3992, "{"));
+        T.dueWrong("class A{method f()none{" + Tester.times(1000, "a:") + "~-" + Tester.times(1976, "-"));
     }
 
     /** The last byte of a full tape belongs to a name, a number, a sign or a blank. */
@@ -40,12 +32,12 @@ public final class FullTest {
         }
         T.dueWrong(filled("class abcdefghijkl~m").substring(1));
         T.dueRight(filled("class A { }"), 0);
-        T.dueWrong(times(4000, " ") + "~");
-        T.dueWrong(times(4000, "#") + "~");
+        T.dueWrong(Tester.times(4000, " ") + "~");
+        T.dueWrong(Tester.times(4000, "#") + "~");
     }
 
     private static void code() {
-        String text = "class A{" + times(12, "method f%()none{ret;" + times(99, "or;") + "}") + "}";
+        String text = "class A{" + Tester.times(12, "method f%()none{ret;" + Tester.times(99, "or;") + "}") + "}";
         T.dueRight(text, 12);
         TaintHouse house = T.house(text);
         T.due("method(11, 4)", house.method(11, 4), 100);
@@ -54,8 +46,8 @@ public final class FullTest {
     }
 
     private static void tries() {
-        String one = "method f%()int{a:null;throw;b:pop;push %;ret;" + times(7, "try a b b B;") + "try a b b Any;}";
-        String text = "class A{" + times(24, one) + "}class B{}";
+        String one = "method f%()int{a:null;throw;b:pop;push %;ret;" + Tester.times(7, "try a b b B;") + "try a b b Any;}";
+        String text = "class A{" + Tester.times(24, one) + "}class B{}";
         TaintHouse house = T.house(text);
         for (int m = 0; m < 24; m++) {
             T.dueRun(house, "a try of method " + m, m, 1, m, 0);
@@ -83,16 +75,16 @@ public final class FullTest {
     /** What earlier texts had leaves no trace, and takes no room from later ones. */
     private static void manyTexts() {
         TaintHouse house = new TaintHouse();
-        String full = "class A { " + times(16, "static s% int; ") + times(8, "field x% int; ") + "} class B : A { "
-            + times(8, "field x% ref; ") + times(8, "method f%() none { a: ret; b: pop; ret; " + times(50, "or; ")
-            + times(8, "try a b b A; ") + "} ") + "}";
+        String full = "class A { " + Tester.times(16, "static s% int; ") + Tester.times(8, "field x% int; ") + "} class B : A { "
+            + Tester.times(8, "field x% ref; ") + Tester.times(8, "method f%() none { a: ret; b: pop; ret; " + Tester.times(50, "or; ")
+            + Tester.times(8, "try a b b A; ") + "} ") + "}";
         String[] kinds = {full, "class A { } class A { }", "class A { field", "class A { method f() none { add; } }"};
         int[] answers = {8, -5001, -16, -5005};
         for (int round = 0; round < 60; round++) {
             for (int i = 0; i < kinds.length; i++) {
                 T.due("text() " + i + " in round " + round, Tester.read(house, kinds[i]), answers[i]);
             }
-            String names = "class A { method f() none { " + times(100, "n" + round + "x%: ") + "ret; } }";
+            String names = "class A { method f() none { " + Tester.times(100, "n" + round + "x%: ") + "ret; } }";
             T.due("text() of names in round " + round, Tester.read(house, names), 1);
             T.due("count(2)", house.count(2), 0);
         }
@@ -100,21 +92,21 @@ public final class FullTest {
 
     private static void fullStacks() {
         // Sixteen values in a handler of the 24th method, and in each method that is called again and again.
-        String deep = "class A { method f(int) int { inc 0 - 1; load 0; ifgt x; a: null; throw; b: " + times(15, "push 1; ")
-            + times(14, "add; ") + "ret; x: load 0; call A f; ret; try a b b Any; }"
+        String deep = "class A { method f(int) int { inc 0 - 1; load 0; ifgt x; a: null; throw; b: " + Tester.times(15, "push 1; ")
+            + Tester.times(14, "add; ") + "ret; x: load 0; call A f; ret; try a b b Any; }"
             + " method g() int { push 500; store 0; push 0; store 1; x: call A h; load 1; add; store 1; inc 0 - 1; load 0; ifgt x;"
-            + " load 1; ret; } method h() int { " + times(16, "push 2; ") + "ret; } }";
+            + " load 1; ret; } method h() int { " + Tester.times(16, "push 2; ") + "ret; } }";
         TaintHouse house = T.house(deep);
         house.argument(0, 24, 0);
         T.dueRun(house, "a full stack of the last method", 0, 1, 15, 0);
         T.dueRun(house, "full stacks that are left", 1, 1, 1000, 0);
-        String sum = "class A { method f(int) int { inc 0 - 1; load 0; ifgt x; " + times(16, "push 1; ") + times(15, "add; ")
+        String sum = "class A { method f(int) int { inc 0 - 1; load 0; ifgt x; " + Tester.times(16, "push 1; ") + Tester.times(15, "add; ")
             + "ret; x: load 0; call A f; ret; } }";
         TaintHouse last = T.house(sum);
         last.argument(0, 24, 0);
         T.dueRun(last, "a full stack of the last method", 0, 1, 16, 0);
         // A frame that was left by a throw begins anew, too.
-        String thrown = "class A { method f() none { " + times(15, "push 1; ") + "null; throw; } method g() int { push 500; store 0;"
+        String thrown = "class A { method f() none { " + Tester.times(15, "push 1; ") + "null; throw; } method g() int { push 500; store 0;"
             + " a: call A f; b: push 1; ret; c: pop; inc 0 - 1; load 0; ifgt a; push 7; ret; try a b c Any; } }";
         T.dueRun(thrown, 1, 1, 7, 0);
     }

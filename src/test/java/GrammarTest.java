@@ -14,14 +14,6 @@ public final class GrammarTest {
         T.finish();
     }
 
-    private static String times(int n, String part) {
-        StringBuilder all = new StringBuilder();
-        for (int i = 0; i < n; i++) {
-            all.append(part.replace("%", String.valueOf(i)));
-        }
-        return all.toString();
-    }
-
     private static String code(String items) {
         return "class A { method f() none { " + items + " ret; } }";
     }
@@ -210,30 +202,30 @@ public final class GrammarTest {
     }
 
     private static void limits() {
-        T.dueRight(times(12, "class A% { } "), 0);
-        T.dueWrong(times(12, "class A% { } ") + "~class B { }");
-        T.dueRight("class A { " + times(8, "field x% int; ") + "} class B : A { " + times(8, "field x% ref; ") + "}", 0);
-        T.dueWrong("class A { " + times(8, "field x% int; ") + "~field y int; }");
-        T.dueWrong("class A { " + times(8, "field x% int; ") + "} class B : A { " + times(8, "field x% ref; ") + "~field");
+        T.dueRight(Tester.times(12, "class A% { } "), 0);
+        T.dueWrong(Tester.times(12, "class A% { } ") + "~class B { }");
+        T.dueRight("class A { " + Tester.times(8, "field x% int; ") + "} class B : A { " + Tester.times(8, "field x% ref; ") + "}", 0);
+        T.dueWrong("class A { " + Tester.times(8, "field x% int; ") + "~field y int; }");
+        T.dueWrong("class A { " + Tester.times(8, "field x% int; ") + "} class B : A { " + Tester.times(8, "field x% ref; ") + "~field");
         String eight = "field a int; field b ref; field c int; field d ref; field e int; field f ref; field g int; field h ref;";
-        T.dueRight(times(12, "class A% { " + eight + " } "), 0);
-        T.dueRight("class A { " + times(8, "static s% int; ") + "} class B { " + times(8, "static s% ref; ") + "}", 0);
-        T.dueWrong("class A { " + times(8, "static s% int; ") + "} class B { " + times(8, "static s% ref; ")
+        T.dueRight(Tester.times(12, "class A% { " + eight + " } "), 0);
+        T.dueRight("class A { " + Tester.times(8, "static s% int; ") + "} class B { " + Tester.times(8, "static s% ref; ") + "}", 0);
+        T.dueWrong("class A { " + Tester.times(8, "static s% int; ") + "} class B { " + Tester.times(8, "static s% ref; ")
             + "~static t int; }");
-        String half = times(12, "method f%() none { ret; } ");
-        String rest = times(12, "virtual f%() none { ret; } ");
+        String half = Tester.times(12, "method f%() none { ret; } ");
+        String rest = Tester.times(12, "virtual f%() none { ret; } ");
         T.dueRight("class A { " + half + "} class B { " + rest + "}", 24);
         T.dueWrong("class A { " + half + "} class B { " + rest + "~method g() none { ret; } }");
         T.dueWrong("class A { " + half + "} class B { " + rest + "~virtual g() none { ret; } }");
-        T.dueRight(code("a: goto b; b: ret; c: pop; " + times(8, "try a b c Any; ")), 1);
-        T.dueWrong(code("a: goto b; b: ret; c: pop; " + times(8, "try a b c Any; ") + "~try a b c Any;"));
-        String two = code("a: goto b; b: ret; c: pop; " + times(8, "try a b c Any; "));
+        T.dueRight(code("a: goto b; b: ret; c: pop; " + Tester.times(8, "try a b c Any; ")), 1);
+        T.dueWrong(code("a: goto b; b: ret; c: pop; " + Tester.times(8, "try a b c Any; ") + "~try a b c Any;"));
+        String two = code("a: goto b; b: ret; c: pop; " + Tester.times(8, "try a b c Any; "));
         T.dueRight(two + two.replace("class A", "class B"), 2);
-        T.dueRight("class A { method f() none { " + times(99, "goto x; ") + "x: ret; } method g() none { "
-            + times(50, "goto x%; x%: ret; ") + " z: } }", 2);
-        T.dueWrong("class A { method f() none { " + times(100, "goto x; ") + "x: ~ret; } }");
-        T.dueWrong("class A { method f() none { " + times(100, "goto x; ") + "x: ~push");
-        T.dueWrong("class A { method f() none { " + times(100, "goto x; ") + "x: ~class");
+        T.dueRight("class A { method f() none { " + Tester.times(99, "goto x; ") + "x: ret; } method g() none { "
+            + Tester.times(50, "goto x%; x%: ret; ") + " z: } }", 2);
+        T.dueWrong("class A { method f() none { " + Tester.times(100, "goto x; ") + "x: ~ret; } }");
+        T.dueWrong("class A { method f() none { " + Tester.times(100, "goto x; ") + "x: ~push");
+        T.dueWrong("class A { method f() none { " + Tester.times(100, "goto x; ") + "x: ~class");
     }
 
     private static void wrongTellsNoFault() {

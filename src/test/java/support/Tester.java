@@ -38,6 +38,15 @@ final class Tester {
         return number;
     }
 
+    /** A part n times, each with its number, from 0 on, in place of %. */
+    static String times(int n, String part) {
+        StringBuilder all = new StringBuilder();
+        for (int i = 0; i < n; i++) {
+            all.append(part.replace("%", String.valueOf(i)));
+        }
+        return all.toString();
+    }
+
     static void feed(TaintHouse house, String text) {
         for (int at = 0; at < text.length(); at += 20) {
             house.feed(fourBytes(text, at), fourBytes(text, at + 4), fourBytes(text, at + 8),
