@@ -18,43 +18,23 @@ public final class CodeFaultTest {
 
     /** A method that answers nothing; class A has all that instructions may ask for. */
     private static String code(String items) {
-        return code("() none", items);
+        return Words.withMethod("() none", items);
     }
 
     private static String code(String head, String items) {
-        return "class A { field x int; field r ref; static s int; static t ref; method m(int, ref) int { push 1; ret; }"
-            + " method n() none { ret; } virtual v(ref, int) ref { null; ret; } method f" + head + " { " + items + "} }";
+        return Words.withMethod(head, items);
     }
 
-    /** Pushes of kinds: i an int, r a ref. */
     private static String pushes(String kinds) {
-        StringBuilder all = new StringBuilder();
-        for (char kind : kinds.toCharArray()) {
-            all.append(kind == 'i' ? "push 1; " : "null; ");
-        }
-        return all.toString();
+        return Words.pushes(kinds);
     }
 
-    /** Takes the kinds from the stack, the last one first. */
     private static String takes(String kinds) {
-        StringBuilder all = new StringBuilder();
-        for (int i = kinds.length() - 1; i >= 0; i--) {
-            all.append(kinds.charAt(i) == 'i' ? "sink 0; " : "as Any; pop; ");
-        }
-        return all.toString();
+        return Words.takes(kinds);
     }
 
     private static void whatInstructionsTake() {
-        String[] table = {"push 1: >i", "null: >r", "add: ii>i", "sub: ii>i", "mul: ii>i", "div: ii>i", "rem: ii>i",
-            "and: ii>i", "or: ii>i", "xor: ii>i", "shl: ii>i", "shr: ii>i", "ushr: ii>i", "neg: i>i", "ifeq L: i>",
-            "ifne L: i>", "iflt L: i>", "ifge L: i>", "ifgt L: i>", "ifle L: i>", "cmpeq L: ii>", "cmpne L: ii>",
-            "cmplt L: ii>", "cmpge L: ii>", "cmpgt L: ii>", "cmple L: ii>", "ifnull L: r>", "ifsome L: r>",
-            "same L: rr>", "other L: rr>", "new A: >r", "get A x: r>i", "get A r: r>r", "put A x: ri>",
-            "put A r: rr>", "gets A s: >i", "gets A t: >r", "puts A s: i>", "puts A t: r>", "ints: i>r", "refs: i>r",
-            "iget: ri>i", "iput: rii>", "rget: ri>r", "rput: rir>", "length: r>i", "call A m: ir>i", "call A n: >",
-            "virt A v: rri>r", "is A: r>i", "as A: r>r", "source 3: >i", "sink 3: i>", "clean 1: i>i", "mark 1: i>i",
-            "goto L: >"};
-        for (String row : table) {
+        for (String row : Words.TAKEN_AND_GIVEN) {
             String word = row.substring(0, row.indexOf(':'));
             String took = row.substring(row.indexOf(' ', row.indexOf(':')) + 1, row.indexOf('>'));
             String gave = row.substring(row.indexOf('>') + 1);

@@ -52,11 +52,7 @@ public final class GrammarTest {
         T.dueWrong(code("push ~abcdefghijklm; "));
         T.dueWrong("class ~1A { }");
         T.dueWrong("class A~_b { }");
-        String words = "class field static method virtual int ref none try push null load store inc dup pop swap add sub"
-            + " mul div rem and or xor shl shr ushr neg goto ifeq ifne iflt ifge ifgt ifle cmpeq cmpne cmplt cmpge"
-            + " cmpgt cmple ifnull ifsome same other new get put gets puts ints refs iget iput rget rput length call"
-            + " virt ret throw is as source sink clean mark";
-        for (String word : words.split(" ")) {
+        for (String word : Words.all()) {
             T.dueWrong("class ~" + word + " { }");
             T.dueRight("class " + word + "x { field y" + word + " int; }", 0);
         }
@@ -183,19 +179,15 @@ public final class GrammarTest {
         T.dueWrong(code("~{ "));
         T.dueWrong(code("~-; "));
         T.dueRight(code("x: y: Any: f: A: "), 1);
-        String[] plain = {"null", "dup", "pop", "swap", "add", "sub", "mul", "div", "rem", "and", "or", "xor", "shl", "shr",
-            "ushr", "neg", "ints", "refs", "iget", "iput", "rget", "rput", "length", "ret", "throw"};
-        String[] jumps = {"goto", "ifeq", "ifne", "iflt", "ifge", "ifgt", "ifle", "cmpeq", "cmpne", "cmplt", "cmpge",
-            "cmpgt", "cmple", "ifnull", "ifsome", "same", "other"};
-        for (String word : plain) {
+        for (String word : Words.PLAIN) {
             T.dueRight(code("ret; " + word + ";"), 1);
             T.dueWrong(code("ret; " + word + " ~L;"));
         }
-        for (String word : jumps) {
+        for (String word : Words.JUMPS) {
             T.dueRight(code("L: ret; " + word + " L;"), 1);
             T.dueWrong(code("ret; " + word + "~;"));
         }
-        for (String word : new String[] {"new", "is", "as"}) {
+        for (String word : Words.OF_CLASS) {
             T.dueRight(code("ret; " + word + " Fault;"), 1);
             T.dueWrong(code("ret; " + word + " ~3;"));
         }

@@ -22,7 +22,7 @@ public final class NameFaultTest {
     private static void toldAgain() {
         T.dueFault(1, "class A { } class ~A { }");
         T.dueFault(1, "class A { } class B { } class ~A { } class B { }");
-        for (String first : "Any Fault NullFault BoundsFault SizeFault DivideFault CastFault".split(" ")) {
+        for (String first : Words.FIRST_CLASSES) {
             T.dueFault(1, "class A { } class ~" + first + " { }");
         }
         String[] members = {"field x int; ", "static x int; ", "method x() none { ret; } ", "virtual x() none { ret; } "};
@@ -44,11 +44,11 @@ public final class NameFaultTest {
         T.dueFault(2, "class A : ~B { } class B { }");
         T.dueFault(2, "class A : ~A { }");
         T.dueRight("class A : CastFault { } class B : A { } class C : A { }", 0);
-        for (String word : new String[] {"new", "is", "as"}) {
+        for (String word : Words.OF_CLASS) {
             T.dueFault(2, code("ret; " + word + " ~B;"));
             T.dueRight(code("ret; " + word + " B;") + " class B { }", 1);
         }
-        for (String word : new String[] {"get", "put", "gets", "puts", "call", "virt"}) {
+        for (String word : Words.OF_MEMBER) {
             T.dueFault(2, code("ret; " + word + " ~B x;"));
             T.dueFault(2, code("ret; " + word + " ~B x;") + " class C { field B int; }");
         }
@@ -80,9 +80,7 @@ public final class NameFaultTest {
     }
 
     private static void labelsThatAreNone() {
-        String[] jumps = {"goto", "ifeq", "ifne", "iflt", "ifge", "ifgt", "ifle", "cmpeq", "cmpne", "cmplt", "cmpge",
-            "cmpgt", "cmple", "ifnull", "ifsome", "same", "other"};
-        for (String word : jumps) {
+        for (String word : Words.JUMPS) {
             T.dueFault(2, code("x: ret; " + word + " ~y;"));
         }
         T.dueFault(2, "class A { method f() none { x: ret; } method g() none { goto ~x; } }");

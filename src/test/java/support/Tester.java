@@ -1,14 +1,39 @@
+import java.util.LinkedHashMap;
+import java.util.Map;
+
 /** Feeds texts, compares answers, counts those that are not as due. */
 final class Tester {
+    /** An object is used for no more calls than these. */
+    private static final int MOST_CALLS = 512;
+
     private int wrong = 0;
     private int asked = 0;
+    private TaintHouse used = new TaintHouse();
+    private int usedCalls = 0;
+    private String sentence = "";
+    private final Map<String, Integer> asksBySentence = new LinkedHashMap<>();
+
+    /** The words of the document by which the answers from here on are due. */
+    void sentence(String words) {
+        sentence = words;
+        asksBySentence.putIfAbsent(words, 0);
+    }
+
+    /** All sentences that were told, each with how many answers were compared by it. */
+    Map<String, Integer> asksBySentence() {
+        return asksBySentence;
+    }
 
     void due(String call, long got, long want) {
         asked++;
+        boolean bySentence = !sentence.isEmpty();
+        if (bySentence) {
+            asksBySentence.merge(sentence, 1, Integer::sum);
+        }
         if (got != want) {
             wrong++;
             if (wrong <= 50) {
-                System.out.println(call + " answered " + got + ", due is " + want);
+                System.out.println(call + " answered " + got + ", due is " + want + (bySentence ? "\n  by: " + sentence : ""));
             }
         }
     }
@@ -72,8 +97,19 @@ final class Tester {
         return house;
     }
 
-    private void dueText(String text, int want, int wantPlace) {
-        TaintHouse house = new TaintHouse();
+    /** Of a new object, and of one that has read other texts. */
+    void dueText(String text, int want, int wantPlace) {
+        dueText(new TaintHouse(), text, want, wantPlace);
+        int calls = text.length() / 20 + 5;
+        usedCalls += calls;
+        if (usedCalls > MOST_CALLS) {
+            used = new TaintHouse();
+            usedCalls = calls;
+        }
+        dueText(used, text, want, wantPlace);
+    }
+
+    private void dueText(TaintHouse house, String text, int want, int wantPlace) {
         due("text() of " + text, read(house, text), want);
         due("place() of " + text, house.place(), wantPlace);
         due("count(4) behind text()", house.count(4), 0);
@@ -99,11 +135,14 @@ final class Tester {
         return house;
     }
 
+    /** Twice, since a run leaves nothing to the next one. */
     void dueRun(TaintHouse house, String text, int method, int ending, int value, int marks) {
-        due("run(" + method + ") of " + text, house.run(method), ending);
-        due("result(0) of " + text, house.result(0), ending);
-        due("result(1) of " + text, house.result(1), value);
-        due("result(2) of " + text, house.result(2), marks);
+        for (int round = 0; round < 2; round++) {
+            due("run(" + method + ") of " + text, house.run(method), ending);
+            due("result(0) of " + text, house.result(0), ending);
+            due("result(1) of " + text, house.result(1), value);
+            due("result(2) of " + text, house.result(2), marks);
+        }
     }
 
     /** The code of a method that answers an int, run with input k being k + 1. */
