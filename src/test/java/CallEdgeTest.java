@@ -93,10 +93,12 @@ public final class CallEdgeTest {
 
     private void forgotten() {
         t.sentence("else the RUN that was is forgotten, ARGUMENTS are 0 without MARKS.");
-        String text = "class A { field x int; static s int; method f(int, int, int, int, int, int) none { load 0; sink 0; load 1; sink 1; load 2; sink 2;"
-            + " load 3; sink 3; load 4; sink 4; load 5; sink 5; load 5; puts A s; new A; pop; ret; } virtual v(int, int, int, int, int, int) int { load 6; ret; } }";
+        String text = "class A { field x int; static s int; method f(int, int, int, int, int, int) none { load 0; sink 0;"
+            + " load 1; sink 1; load 2; sink 2; load 3; sink 3; load 4; sink 4; load 5; sink 5; load 5; puts A s; new A; pop;"
+            + " ret; } virtual v(int, int, int, int, int, int) int { load 6; ret; } }";
         TaintHouse house = t.house(text);
-        for (String next : new String[] {text, text.replace("class A", "class B").replace("puts A", "puts B").replace("new A", "new B")}) {
+        for (String next : new String[] {text, text.replace("class A", "class B").replace("puts A", "puts B").replace("new A",
+            "new B")}) {
             for (int i = 0; i < 7; i++) {
                 house.argument(i, 10 + i, 1 << i);
             }
@@ -170,8 +172,8 @@ public final class CallEdgeTest {
 
     private void arguments() {
         t.sentence("ARGUMENT i (0 .. 6) is v, with MARKS m (their lowest sixteen bits): 1; -15 no such i.");
-        String text = "class A { virtual v(int, int, int, int, int, int) none { load 1; sink 1; load 2; sink 2; load 3; sink 3; load 4; sink 4;"
-            + " load 5; sink 5; load 6; sink 6; ret; } method f(int) int { load 0; ret; } }";
+        String text = "class A { virtual v(int, int, int, int, int, int) none { load 1; sink 1; load 2; sink 2; load 3; sink 3;"
+            + " load 4; sink 4; load 5; sink 5; load 6; sink 6; ret; } method f(int) int { load 0; ret; } }";
         TaintHouse house = t.house(text);
         int[] values = {LEAST, MOST, -1, 0, 1, 65536, -65536};
         int[] marks = {65536, 1, 65535, 65537, -1, LEAST, MOST};
@@ -195,16 +197,18 @@ public final class CallEdgeTest {
     }
 
     private void locals() {
-        t.sentence("A RUN of a METHOD: its locals from 0 on are the ARGUMENTS (where a ref must be: null, with the ARGUMENT's MARKS;"
-            + " so a virtual's first one, too):");
-        String[] kinds = {"int, int, int, int, int, int", "ref, ref, ref, ref, ref, ref", "int, ref, int, ref, int, ref", "ref, int", "int", "ref", ""};
+        t.sentence("A RUN of a METHOD: its locals from 0 on are the ARGUMENTS (where a ref must be: null,"
+            + " with the ARGUMENT's MARKS; so a virtual's first one, too):");
+        String[] kinds = {"int, int, int, int, int, int", "ref, ref, ref, ref, ref, ref", "int, ref, int, ref, int, ref",
+            "ref, int", "int", "ref", ""};
         for (String row : kinds) {
             for (int first = 0; first < 2; first++) {
                 String all = (first == 1 ? row.isEmpty() ? "ref" : "ref, " + row : row);
                 String[] each = all.isEmpty() ? new String[0] : all.split(", ");
                 StringBuilder items = new StringBuilder();
                 for (int i = 0; i < each.length; i++) {
-                    items.append("load ").append(i).append(each[i].equals("ref") ? "; is Any" : "").append("; sink ").append(i).append("; ");
+                    items.append("load ").append(i).append(each[i].equals("ref") ? "; is Any" : "").append("; sink ").append(i)
+                        .append("; ");
                     items.append(each[i].equals("ref") ? "load " + i + "; ifsome bad; " : "");
                 }
                 TaintHouse house = t.house("class A { " + (first == 1 ? "virtual" : "method") + " f(" + row + ") int { " + items
@@ -223,9 +227,9 @@ public final class CallEdgeTest {
 
     private void runs() {
         t.sentence("how it ends, 0 .. 7; -10 no such METHOD.");
-        String text = "class A { method a() none { ret; } method b() int { push 1; ret; } method c() ref { null; ret; } method d() none { null; throw; }"
-            + " method e() none { x: goto x; } method f() none { call A f; ret; } method g() none { push 3000; ints; ret; }"
-            + " method h() none { x: push 1; sink 1; goto x; } }";
+        String text = "class A { method a() none { ret; } method b() int { push 1; ret; } method c() ref { null; ret; }"
+            + " method d() none { null; throw; } method e() none { x: goto x; } method f() none { call A f; ret; }"
+            + " method g() none { push 3000; ints; ret; } method h() none { x: push 1; sink 1; goto x; } }";
         TaintHouse house = t.house(text);
         for (int m = 0; m < 8; m++) {
             t.due("run(" + m + ")", house.run(m), m);
@@ -244,18 +248,21 @@ public final class CallEdgeTest {
     }
 
     private void results() {
-        t.sentence("Of the latest RUN: what 0 how it ended, 1 the int (or the number of the OBJECT or ARRAY, NONE of null), 2 its MARKS"
-            + " (1, 2 of what was thrown if it ended so; 0 if it ended otherwise), 3 INSTRUCTIONS done, 4 EVENTS, 5 ALARMS, 6 OBJECTS and ARRAYS, 7 CELLS.");
-        String text = "class A { field x int; method a(int) none { load 0; sink 1; load 0; ret; } method b(int) int { push 3; ints; pop; load 0; ret; }"
-            + " method c(ref) ref { new A; pop; load 0; ret; } method d() ref { new A; pop; new A; ret; } method e() ref { push 5; source 3; ints; ret; }"
-            + " method f() none { source 3; push 0; div; ret; } method g() none { x: source 3; sink 3; goto x; } method h() none { new A; call A h; ret; }"
+        t.sentence("Of the latest RUN: what 0 how it ended, 1 the int (or the number of the OBJECT or ARRAY, NONE of null),"
+            + " 2 its MARKS (1, 2 of what was thrown if it ended so; 0 if it ended otherwise), 3 INSTRUCTIONS done, 4 EVENTS,"
+            + " 5 ALARMS, 6 OBJECTS and ARRAYS, 7 CELLS.");
+        String text = "class A { field x int; method a(int) none { load 0; sink 1; load 0; ret; } method b(int) int { push 3;"
+            + " ints; pop; load 0; ret; } method c(ref) ref { new A; pop; load 0; ret; } method d() ref { new A; pop; new A;"
+            + " ret; } method e() ref { push 5; source 3; ints; ret; } method f() none { source 3; push 0; div; ret; }"
+            + " method g() none { x: source 3; sink 3; goto x; } method h() none { new A; call A h; ret; }"
             + " method i(int) none { load 0; ints; ret; } method j(int) none { x: load 0; pop; goto x; } }";
         TaintHouse house = t.house(text);
         house.argument(0, 4000, 7);
         house.input(3, 4);
         house.policy(1, 2);
         house.policy(3, 16);
-        int[][] want = {{0, 0, 0, 4, 1, 1, 0, 0}, {1, 4000, 7, 5, 0, 0, 1, 4}, {2, -1, 7, 4, 0, 0, 1, 2}, {2, 1, 0, 4, 0, 0, 2, 4},
+        int[][] want = {{0, 0, 0, 4, 1, 1, 0, 0}, {1, 4000, 7, 5, 0, 0, 1, 4}, {2, -1, 7, 4, 0, 0, 1, 2},
+            {2, 1, 0, 4, 0, 0, 2, 4},
             {2, 0, 0, 4, 0, 0, 1, 5}, {3, 0, 8, 3, 0, 0, 1, 1}, {7, 0, 0, 1501, 500, 0, 0, 0}, {5, 0, 0, 47, 0, 0, 24, 48},
             {6, 0, 0, 1, 0, 0, 0, 0}, {4, 0, 0, 20000, 0, 0, 0, 0}};
         for (int m = 0; m < want.length; m++) {
@@ -274,9 +281,10 @@ public final class CallEdgeTest {
         }
     }
 
-    private static final String LOOK = "class A { field x int; field r ref; static s int; static q ref; method f(int) none { load 0; sink 0; source 3; sink 15;"
-        + " new B; puts A q; gets A q; load 0; put A x; gets A q; push - 1; mark 5; put B z; gets A q; gets A q; put B y; load 0; puts A s;"
-        + " push 2; mark 9; refs; store 1; load 1; push 1; load 1; rput; push 3; ints; push 2; load 0; iput; push 0; ints; pop; ret; } method none1() none { ret; } }"
+    private static final String LOOK = "class A { field x int; field r ref; static s int; static q ref;"
+        + " method f(int) none { load 0; sink 0; source 3; sink 15; new B; puts A q; gets A q; load 0; put A x; gets A q;"
+        + " push - 1; mark 5; put B z; gets A q; gets A q; put B y; load 0; puts A s; push 2; mark 9; refs; store 1; load 1;"
+        + " push 1; load 1; rput; push 3; ints; push 2; load 0; iput; push 0; ints; pop; ret; } method none1() none { ret; } }"
         + " class B : A { field y ref; field z int; }";
 
     private TaintHouse looked() {
@@ -289,7 +297,8 @@ public final class CallEdgeTest {
     }
 
     private void events() {
-        t.sentence("Of an EVENT of the latest RUN: what 0 k, 1 the int, 2 its MARKS, 3 whether it is an ALARM. NONE for none such, another what.");
+        t.sentence("Of an EVENT of the latest RUN: what 0 k, 1 the int, 2 its MARKS, 3 whether it is an ALARM."
+            + " NONE for none such, another what.");
         TaintHouse house = looked();
         int[][] want = {{0, 6, 48, 0}, {15, LEAST, 8, 1}};
         for (int i = 0; i < 2; i++) {
@@ -310,8 +319,8 @@ public final class CallEdgeTest {
     }
 
     private void objects() {
-        t.sentence("Of an OBJECT or ARRAY of the latest RUN: what 0 its class (of an ARRAY -2 of ints, -3 of refs), 1 how many FIELDS or elements,"
-            + " 2 the MARKS of its LENGTH (0 of an OBJECT). NONE for none such, another what.");
+        t.sentence("Of an OBJECT or ARRAY of the latest RUN: what 0 its class (of an ARRAY -2 of ints, -3 of refs),"
+            + " 1 how many FIELDS or elements, 2 the MARKS of its LENGTH (0 of an OBJECT). NONE for none such, another what.");
         TaintHouse house = looked();
         int[][] want = {{8, 4, 0}, {-3, 2, 9}, {-2, 3, 0}, {-2, 0, 0}};
         for (int i = 0; i < 4; i++) {
@@ -332,8 +341,8 @@ public final class CallEdgeTest {
     }
 
     private void slots() {
-        t.sentence("Of a FIELD or element (FIELDS: those of the highest class first, as they stand): what 0 the int, or the number of the OBJECT or ARRAY"
-            + " (NONE of null), 1 its MARKS. NONE for none such, another what.");
+        t.sentence("Of a FIELD or element (FIELDS: those of the highest class first, as they stand): what 0 the int,"
+            + " or the number of the OBJECT or ARRAY (NONE of null), 1 its MARKS. NONE for none such, another what.");
         TaintHouse house = looked();
         int[][][] want = {{{6, 48}, {-1, 0}, {0, 0}, {-1, 5}}, {{-1, 0}, {1, 0}}, {{0, 0}, {0, 0}, {6, 48}}, {}};
         for (int i = 0; i < 4; i++) {
@@ -372,7 +381,8 @@ public final class CallEdgeTest {
         house.run(1);
         t.due("stat(0, 0) of a run that sets none", house.stat(0, 0), 0);
         t.due("stat(1, 0) of a run that sets none", house.stat(1, 0), -1);
-        TaintHouse full = t.house("class A { " + Tester.times(16, "static s% ref; ") + "method f(ref) none { load 0; puts A s15; ret; } }");
+        TaintHouse full = t.house("class A { " + Tester.times(16, "static s% ref; ") + "method f(ref) none { load 0; puts A"
+            + " s15; ret; } }");
         full.argument(0, 0, 65535);
         t.due("run(0)", full.run(0), 0);
         t.due("stat(15, 0)", full.stat(15, 0), -1);
@@ -382,12 +392,15 @@ public final class CallEdgeTest {
     }
 
     private void types() {
-        t.sentence("Of a CLASS: what 0 the number of its PARENT (NONE of Any), 1 how many FIELDS it has with those above, 2 how many METHODS stand in it."
-            + " NONE for none such, another what.");
+        t.sentence("Of a CLASS: what 0 the number of its PARENT (NONE of Any), 1 how many FIELDS it has with those above,"
+            + " 2 how many METHODS stand in it. NONE for none such, another what.");
         String eight = Tester.times(8, "field x% int; ");
-        TaintHouse house = t.house("class A { " + eight + "method f() none { ret; } virtual v() none { ret; } static s int; } class B : A { " + eight
-            + "virtual v() none { ret; } } class C : B { field y int; method x() none { ret; } method z() none { ret; } virtual w() none { ret; } } class D { }");
-        int[][] want = {{-1, 0, 0}, {0, 0, 0}, {1, 0, 0}, {1, 0, 0}, {1, 0, 0}, {1, 0, 0}, {1, 0, 0}, {0, 8, 2}, {7, 16, 1}, {8, 17, 3}, {0, 0, 0}};
+        TaintHouse house = t.house("class A { " + eight + "method f() none { ret; } virtual v() none { ret; } static s int; }"
+            + " class B : A { " + eight
+            + "virtual v() none { ret; } } class C : B { field y int; method x() none { ret; } method z() none { ret; }"
+            + " virtual w() none { ret; } } class D { }");
+        int[][] want = {{-1, 0, 0}, {0, 0, 0}, {1, 0, 0}, {1, 0, 0}, {1, 0, 0}, {1, 0, 0}, {1, 0, 0}, {0, 8, 2}, {7, 16, 1},
+            {8, 17, 3}, {0, 0, 0}};
         for (int c = 0; c < want.length; c++) {
             for (int what = 0; what < 3; what++) {
                 t.due("type(" + c + ", " + what + ")", house.type(c, what), want[c][what]);
@@ -406,15 +419,19 @@ public final class CallEdgeTest {
     }
 
     private void methods() {
-        t.sentence("Of a METHOD: what 0 its CLASS, 1 how many KINDS, 2 its RESULT (0 none, 1 int, 2 ref), 3 whether it is a virtual, 4 INSTRUCTIONS,"
-            + " 5 the most that its STACK has ahead of any that is come to. NONE for none such, another what.");
+        t.sentence("Of a METHOD: what 0 its CLASS, 1 how many KINDS, 2 its RESULT (0 none, 1 int, 2 ref),"
+            + " 3 whether it is a virtual, 4 INSTRUCTIONS, 5 the most that its STACK has ahead of any that is come to."
+            + " NONE for none such, another what.");
         String sixteen = Tester.times(16, "push 1; ");
-        String text = "class A { method a() none { ret; } virtual b(int, ref, int, ref, int, ref) int { push 1; ret; } } class B { method c(int) ref { null; ret; }"
-            + " virtual d() none { " + sixteen + "ret; } method e() none { " + Tester.times(99, "goto x%; x%: ") + "ret; y: z: }"
+        String text = "class A { method a() none { ret; } virtual b(int, ref, int, ref, int, ref) int { push 1; ret; } }"
+            + " class B { method c(int) ref { null; ret; } virtual d() none { " + sixteen + "ret; } method e() none { "
+            + Tester.times(99, "goto x%; x%: ") + "ret; y: z: }"
             + " method f() none { a: push 1; push 2; push 3; add; add; pop; ret; b: pop; ret; try a b b Any; }"
-            + " method g(int) int { load 0; ifeq x; push 1; push 1; push 1; push 1; ret; x: push 5; ret; push 1; push 1; push 1; push 1; push 1; ret; } }";
+            + " method g(int) int { load 0; ifeq x; push 1; push 1; push 1; push 1; ret; x: push 5; ret; push 1; push 1;"
+            + " push 1; push 1; push 1; ret; } }";
         TaintHouse house = t.house(text);
-        int[][] want = {{7, 0, 0, 0, 1, 0}, {7, 6, 1, 1, 2, 1}, {8, 1, 2, 0, 2, 1}, {8, 0, 0, 1, 17, 16}, {8, 0, 0, 0, 100, 0}, {8, 0, 0, 0, 9, 3},
+        int[][] want = {{7, 0, 0, 0, 1, 0}, {7, 6, 1, 1, 2, 1}, {8, 1, 2, 0, 2, 1}, {8, 0, 0, 1, 17, 16}, {8, 0, 0, 0, 100, 0},
+            {8, 0, 0, 0, 9, 3},
             {8, 1, 1, 0, 15, 4}};
         for (int m = 0; m < want.length; m++) {
             for (int what = 0; what < 6; what++) {

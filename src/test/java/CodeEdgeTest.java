@@ -108,7 +108,8 @@ public final class CodeEdgeTest {
     }
 
     private void firstStackAndLocals() {
-        t.sentence("the STACK is empty, locals from 0 on are the KINDS (a virtual's local 0 is a ref, KINDS from 1 on), the others unset.");
+        t.sentence("the STACK is empty, locals from 0 on are the KINDS (a virtual's local 0 is a ref, KINDS from 1 on),"
+            + " the others unset.");
         for (String one : new String[] {"pop", "dup", "swap", "store 0", "neg", "throw", "sink 0"}) {
             t.dueFault(5, code("(int, ref) none", "~" + one + "; ret;"));
         }
@@ -260,7 +261,8 @@ public final class CodeEdgeTest {
         t.dueFault(5, code(fifteen + "null; ~null; ret;"));
         t.dueRight(code(fifteen + "dup; swap; pop; dup; ret;"), METHODS);
         // All sixteen are still there behind a call that has a stack and locals of its own.
-        t.dueRun("class A { method g() none { " + Tester.times(16, "push 50; ") + Tester.times(16, "store %; ") + "ret; } method f() int { "
+        t.dueRun("class A { method g() none { " + Tester.times(16, "push 50; ") + Tester.times(16, "store %; ")
+            + "ret; } method f() int { "
             + Tester.times(16, "push %; ") + "call A g; " + Tester.times(15, "add; ") + "ret; } }", 1, 1, 120, 0);
         t.dueFault(5, code(fifteen + "dup; swap; ~dup; ret;"));
         t.dueRight(code("(int) none", fifteen + "load 0; ret;"), METHODS);
@@ -429,7 +431,8 @@ public final class CodeEdgeTest {
         // By a way back, by a try, and by a long way.
         t.dueFault(5, code("(int) none", "x: ~load 0; pop; null; store 0; goto x;"));
         t.dueFault(5, code("(int) none", "a: null; store 0; push 1; pop; b: ret; h: ~load 0; ret; try a b h Any;"));
-        t.dueFault(5, code("(int) none", "push 1; ifeq a; null; store 0; a: goto b; c: ~load 0; ret; b: push 1; ifeq d; d: goto c;"));
+        t.dueFault(5, code("(int) none", "push 1; ifeq a; null; store 0; a: goto b; c: ~load 0; ret; b: push 1; ifeq d; d:"
+            + " goto c;"));
     }
 
     private void somethingNew() {
@@ -467,8 +470,8 @@ public final class CodeEdgeTest {
     }
 
     private void orderAtOneInstruction() {
-        t.sentence("CODE: of an INSTRUCTION first its own STACK and locals are asked, then the STACK behind it (16), then what comes behind,"
-            + " in the order next, LABEL, tries of the text.");
+        t.sentence("CODE: of an INSTRUCTION first its own STACK and locals are asked, then the STACK behind it (16),"
+            + " then what comes behind, in the order next, LABEL, tries of the text.");
         String sixteen = Words.pushes("iiiiiiiiiiiiiiii");
         // Its own stack, locals, and the stack behind it ahead of the end that is next.
         t.dueFault(5, code("~add;"));
@@ -496,7 +499,8 @@ public final class CodeEdgeTest {
         for (String row : Words.TAKEN_AND_GIVEN) {
             t.dueFault(5, code(Words.pushes(taken(row)) + "a: " + word(row) + "; b: L: ret; " + rest));
         }
-        for (String row : new String[] {"i:dup", "r:dup", "i:pop", "ir:swap", "i:store 0", "r:throw", ":ret", "i:ret", ":load 0", ":inc 0 1"}) {
+        for (String row : new String[] {"i:dup", "r:dup", "i:pop", "ir:swap", "i:store 0", "r:throw", ":ret", "i:ret", ":load 0",
+            ":inc 0 1"}) {
             String ahead = Words.pushes(row.substring(0, row.indexOf(':')));
             t.dueFault(5, code("(int) none", ahead + "a: " + row.substring(row.indexOf(':') + 1) + "; b: ret; " + rest));
         }
@@ -510,7 +514,8 @@ public final class CodeEdgeTest {
         t.sentence("store makes the local just this kind.");
         for (int k = 0; k < 16; k++) {
             for (String kinds : new String[] {"u", "i", "r", "iu", "ru", "ir", "iru"}) {
-                t.dueRight(code(ways(kinds, k) + "push 1; store " + k + "; inc " + k + " 1; load " + k + "; sink 0; ret;"), METHODS);
+                t.dueRight(code(ways(kinds, k) + "push 1; store " + k + "; inc " + k + " 1; load " + k + "; sink 0; ret;"),
+                    METHODS);
                 t.dueRight(code(ways(kinds, k) + "null; store " + k + "; load " + k + "; throw;"), METHODS);
             }
             t.dueFault(5, code("push 1; store " + k + "; null; store " + k + "; ~inc " + k + " 1; ret;"));
@@ -539,7 +544,8 @@ public final class CodeEdgeTest {
     }
 
     private void placesOnTheStack() {
-        t.sentence("put takes the ref below the VALUE; iput, rput the ref, the index, the VALUE on top; virt the ref below its KINDS.");
+        t.sentence("put takes the ref below the VALUE; iput, rput the ref, the index, the VALUE on top;"
+            + " virt the ref below its KINDS.");
         String[] rows = {"put A x:ri", "iput:rii", "rput:rir", "virt A v:rri"};
         for (String row : rows) {
             String word = row.substring(0, row.indexOf(':'));
@@ -560,7 +566,8 @@ public final class CodeEdgeTest {
         }
         String text = "class A { field r ref; virtual v(ref, int) int { load 0; load 1; same x; load 2; ret; x: push 99; ret; }"
             + " method a() none { new A; new A; put A r; ret; } method b() none { push 9; ints; push 3; push 5; iput; ret; }"
-            + " method c() none { push 2; refs; push 1; new A; rput; ret; } method d() int { new A; new A; push 8; virt A v; ret; } }";
+            + " method c() none { push 2; refs; push 1; new A; rput; ret; } method d() int { new A; new A; push 8; virt A v;"
+            + " ret; } }";
         TaintHouse house = t.house(text);
         t.due("run(1)", house.run(1), 0);
         t.due("slot(0, 0, 0)", house.slot(0, 0, 0), 1);
@@ -589,7 +596,8 @@ public final class CodeEdgeTest {
             t.due("text()", Tester.read(used, text), 2);
             t.due("method(0, 5) of " + items, used.method(0, 5), 0);
         }
-        TaintHouse house = t.house("class A { method f(int) none { push 1; ret; } method g() none { a: ret; b: pop; ret; try a b b Any; } }");
+        TaintHouse house = t.house("class A { method f(int) none { push 1; ret; } method g() none { a: ret; b: pop; ret;"
+            + " try a b b Any; } }");
         t.due("method(0, 5)", house.method(0, 5), 1);
         t.due("method(1, 5)", house.method(1, 5), 1);
     }

@@ -81,8 +81,10 @@ public final class FaultEdgeTest {
     private void leastKindOfOnePlace() {
         t.sentence("of one place the least kind:");
         t.dueFault(1, "class A { virtual v() none { ret; } } class B : A { field v int; virtual ~v() int { push 1; ret; } }");
-        t.dueFault(1, "class A { virtual v() none { ret; } } class B : A { virtual v() none { ret; } virtual ~v(int) none { ret; } }");
-        t.dueFault(1, "class A { virtual v() none { ret; } } class B : A { method v() none { ret; } virtual ~v() ref { null; ret; } }");
+        t.dueFault(1, "class A { virtual v() none { ret; } } class B : A { virtual v() none { ret; }"
+            + " virtual ~v(int) none { ret; } }");
+        t.dueFault(1, "class A { virtual v() none { ret; } } class B : A { method v() none { ret; } virtual ~v() ref { null;"
+            + " ret; } }");
         t.dueFault(1, "class A { virtual v() none { ret; } } class B : A { static v int; virtual ~v(ref) none { ret; } }");
     }
 
@@ -182,8 +184,9 @@ public final class FaultEdgeTest {
         t.dueFault(2, "class A { field B int; method f() none { B: ret; new ~B; } }");
     }
 
-    private static final String MEMBERS = "class Z { field x int; static s int; method m() none { ret; } virtual v() none { ret; } }"
-        + " class Y : Z { } class W : Y { field y int; static u int; method n() none { ret; } virtual w() none { ret; } } ";
+    private static final String MEMBERS = "class Z { field x int; static s int; method m() none { ret; }"
+        + " virtual v() none { ret; } } class Y : Z { } class W : Y { field y int; static u int; method n() none { ret; }"
+        + " virtual w() none { ret; } } ";
 
     /** A member's name is right in the classes that are told, and a fault in the others. */
     private void ofClasses(String word, String name, String... classes) {
@@ -331,14 +334,16 @@ public final class FaultEdgeTest {
     }
 
     private void nearestRoutines() {
-        t.sentence("call goes to the nearest method of this NAME (class, then above), virt to the nearest virtual, whatever else has it.");
+        t.sentence("call goes to the nearest method of this NAME (class, then above), virt to the nearest virtual,"
+            + " whatever else has it.");
         String top = "class A { method g() int { push 1; ret; } virtual v() int { push 11; ret; } } ";
         String[] between = {"", "field g int; field v int;", "static g int; static v ref;",
             "virtual g() int { push 8; ret; } method v() int { push 9; ret; }"};
         for (String own : between) {
             int more = own.contains("virtual") ? 2 : 0;
             String text = top + "class B : A { " + own + " } class C : B { } class M { method a() int { call B g; ret; }"
-                + " method b() int { call C g; ret; } method c() int { new B; virt B v; ret; } method d() int { new C; virt A v; ret; } }";
+                + " method b() int { call C g; ret; } method c() int { new B; virt B v; ret; } method d() int { new C;"
+                + " virt A v; ret; } }";
             TaintHouse house = t.house(text);
             int[] want = {1, 1, 11, 11};
             for (int i = 0; i < 4; i++) {
@@ -347,17 +352,18 @@ public final class FaultEdgeTest {
         }
         String below = top + "class B : A { method g() int { push 2; ret; } virtual v() int { push 12; ret; } } class C : B { }"
             + " class M { method a() int { call A g; ret; } method b() int { call B g; ret; } method c() int { call C g; ret; }"
-            + " method d() int { new A; virt A v; ret; } method e() int { new C; virt A v; ret; } method f() int { new C; virt C v; ret; } }";
+            + " method d() int { new A; virt A v; ret; } method e() int { new C; virt A v; ret; } method f() int { new C;"
+            + " virt C v; ret; } }";
         TaintHouse house = t.house(below);
         int[] want = {1, 2, 2, 11, 12, 12};
         for (int i = 0; i < want.length; i++) {
             t.dueRun(house, below, 4 + i, 1, want[i], 0);
         }
         // The kinds that are asked for are those of the nearest one, too.
-        t.dueFault(5, "class A { method g() int { push 1; ret; } } class B : A { method g(int) int { load 0; ret; } method f() int {"
-            + " ~call B g; ret; } }");
-        t.dueRight("class A { method g() int { push 1; ret; } } class B : A { virtual g(int) int { load 1; ret; } method f() int {"
-            + " call B g; ret; } }", 3);
+        t.dueFault(5, "class A { method g() int { push 1; ret; } } class B : A { method g(int) int { load 0; ret; }"
+            + " method f() int { ~call B g; ret; } }");
+        t.dueRight("class A { method g() int { push 1; ret; } } class B : A { virtual g(int) int { load 1; ret; }"
+            + " method f() int { call B g; ret; } }", 3);
     }
 
     private void nearestFieldsAndStatics() {
@@ -367,7 +373,8 @@ public final class FaultEdgeTest {
             "virtual x() none { ret; } virtual s() none { ret; }"};
         for (String own : between) {
             int more = own.contains("none") ? 2 : 0;
-            String text = "class A { field x int; static s int; } class B : A { " + own + " } class C : B { } class M { method f() int {"
+            String text = "class A { field x int; static s int; } class B : A { " + own
+                + " } class C : B { } class M { method f() int {"
                 + " push 5; puts C s; new C; dup; push 6; put C x; get B x; push 10; mul; gets B s; add; ret; } }";
             TaintHouse house = t.dueRun(text, more, 1, 65, 0);
             t.due("slot(0, 0, 0)", house.slot(0, 0, 0), 6);
@@ -456,15 +463,17 @@ public final class FaultEdgeTest {
 
     private void changesNothing() {
         t.sentence("What isn't right changes nothing;");
-        String text = "class A { field x int; static s int; method f(int) int { load 0; sink 1; push 3; puts A s; new A; push 8; put A x;"
-            + " load 0; ret; } }";
+        String text = "class A { field x int; static s int; method f(int) int { load 0; sink 1; push 3; puts A s; new A;"
+            + " push 8; put A x; load 0; ret; } }";
         TaintHouse house = t.house(text);
         house.argument(0, 9, 5);
         house.policy(1, 4);
         house.flows(6);
         t.due("run(0)", house.run(0), 1);
-        String[] others = {"", "?", "class B { } class C { static q int; method g() none {", ONE_OF_EACH[0], ONE_OF_EACH[1], ONE_OF_EACH[2],
-            ONE_OF_EACH[3], ONE_OF_EACH[4], "class B { field y ref; static z int; static y int; } class C { method g() ref { null; } }"};
+        String[] others = {"", "?", "class B { } class C { static q int; method g() none {", ONE_OF_EACH[0], ONE_OF_EACH[1],
+            ONE_OF_EACH[2],
+            ONE_OF_EACH[3], ONE_OF_EACH[4], "class B { field y ref; static z int; static y int; }"
+                + " class C { method g() ref { null; } }"};
         for (String other : others) {
             t.due("text() is below 0", Tester.read(house, other.replace("~", "")) < 0, true);
             int[] counts = {8, 1, 1, 6, 0};

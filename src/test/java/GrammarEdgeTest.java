@@ -53,8 +53,8 @@ public final class GrammarEdgeTest {
     }
 
     private void ends() {
-        t.sentence("A text is WRONG at a PLACE: that of the first byte (from 0 on; the length at its end) with which, from the left,"
-            + " it can't go on to be right;");
+        t.sentence("A text is WRONG at a PLACE: that of the first byte (from 0 on; the length at its end) with which,"
+            + " from the left, it can't go on to be right;");
         t.dueRight(ALL_SORTS, 3);
         String[] tokens = ALL_SORTS.split(" ");
         String part = "";
@@ -193,7 +193,8 @@ public final class GrammarEdgeTest {
     }
 
     private void methods() {
-        t.sentence("method NAME ( KINDS ) RESULT { ITEMS } and virtual NAME ( KINDS ) RESULT { ITEMS } (at most 24 METHODS in all).");
+        t.sentence("method NAME ( KINDS ) RESULT { ITEMS } and virtual NAME ( KINDS ) RESULT { ITEMS }"
+            + " (at most 24 METHODS in all).");
         String methods = Tester.times(24, "method f%() none { ret; } ");
         String virtuals = methods.replace("method", "virtual");
         String mixed = Tester.times(12, "method f%() none { ret; } virtual v%() none { ret; } ");
@@ -249,7 +250,8 @@ public final class GrammarEdgeTest {
         for (String word : new String[] {"method", "virtual"}) {
             String six = "class A { " + word + " f(int, ref, int, ref, int, ref";
             t.dueRight(six + ") none { ret; } }", 1);
-            for (String behind : new String[] {", int) none { ret; } }", ",", ", ", ",)", ",,", ", 5", ", int, int, int)", ", none)"}) {
+            for (String behind : new String[] {", int) none { ret; } }", ",", ", ", ",)", ",,", ", 5", ", int, int, int)",
+                ", none)"}) {
                 t.dueWrong(six + "~" + behind);
                 t.dueWrong(six + " ~" + behind);
             }
@@ -267,7 +269,8 @@ public final class GrammarEdgeTest {
                 t.due("method(0, 2)", house.method(0, 2), i);
             }
         }
-        for (String wrong : new String[] {"~{ ret; }", "~None { ret; }", "~A { ret; }", "~0 { ret; }", "~, { ret; }", "int ~ref { ret; }",
+        for (String wrong : new String[] {"~{ ret; }", "~None { ret; }", "~A { ret; }", "~0 { ret; }", "~, { ret; }",
+            "int ~ref { ret; }",
             "none ~none { ret; }", "~(none) { ret; }", "~class"}) {
             t.dueWrong("class A { method f() " + wrong + " }");
         }
@@ -282,14 +285,16 @@ public final class GrammarEdgeTest {
         String eight = Tester.times(8, "try a b b Any; ");
         t.dueWrong(method(items + eight + "~try a b b Any;"));
         t.dueWrong(method(eight + "~try a b b Any; " + items));
-        t.dueWrong(method(Tester.times(4, "try a b b Any; ") + items + Tester.times(4, "try a b b Any; ") + "c: ~try a b b Any;"));
+        t.dueWrong(method(Tester.times(4, "try a b b Any; ") + items + Tester.times(4, "try a b b Any; ")
+            + "c: ~try a b b Any;"));
         // So many a method, not in all.
         String three = "class A { " + Tester.times(3, "method f%() none { " + items + eight + "} ");
         t.dueRight(three + "}", 3);
         t.dueWrong(three + "method g() none { " + items + eight + "~try a b b Any; } }");
         // As many labels as there may be bytes for, also where no instruction is between them.
         t.dueRight(method(Tester.times(200, "a%: ") + "ret; " + Tester.times(200, "b%: ")), 1);
-        for (String wrong : new String[] {"try~;", "try a~;", "try a b~;", "try a b b~;", "try a b b Any ~Any;", "try a~, b b Any;",
+        for (String wrong : new String[] {"try~;", "try a~;", "try a b~;", "try a b b~;", "try a b b Any ~Any;",
+            "try a~, b b Any;",
             "try a b b Any~:", "try ~: a b b Any;", "try a~: b", "~:", "a: ~: ", "a ~a:"}) {
             t.dueWrong(code(wrong));
         }
@@ -300,7 +305,8 @@ public final class GrammarEdgeTest {
         t.dueRight(method("x: ret;"), 1);
         t.dueRight(method("x : ret;"), 1);
         t.dueRight(method("x\n#y\n: ret;"), 1);
-        for (String behind : new String[] {"~;", "~ret;", "~}", "~x:", "~x;", "~5;", "~,", "~{", "~-", "~try x x x A;", "~class"}) {
+        for (String behind : new String[] {"~;", "~ret;", "~}", "~x:", "~x;", "~5;", "~,", "~{", "~-", "~try x x x A;",
+            "~class"}) {
             t.dueWrong(method("x " + behind + " ret;"));
             t.dueWrong(method("ret; x " + behind));
         }
@@ -361,7 +367,8 @@ public final class GrammarEdgeTest {
             {Tester.times(12, "class A% { } "), "class B { }", "class A0 { }", "class B : Q { }"},
             {"class A { " + Tester.times(8, "field x% int; "), "field y int; }", "field x0 int; }"},
             {"class A { " + Tester.times(16, "static s% int; "), "static t int; }", "static s0 int; }"},
-            {"class A { " + Tester.times(24, "method f%() none { ret; } "), "method g() none { ret; } }", "virtual f0() none { } }",
+            {"class A { " + Tester.times(24, "method f%() none { ret; } "), "method g() none { ret; } }",
+                "virtual f0() none { } }",
                 "virtual g() none { ret; } }"},
             {"class A { method f() none { a: ret; b: pop; ret; " + eightTries, "try a b b Any; } }", "try q q q Q; } }"},
             {"class A { method f() none { " + hundred, "ret; } }", "goto q; } }", "push 99999999999; } }"}};
@@ -446,7 +453,8 @@ public final class GrammarEdgeTest {
         t.sentence("CLASSES ahead of all others, without MEMBERS: Any, and behind it, with Any as PARENT, Fault; with Fault:"
             + " NullFault, BoundsFault, SizeFault, DivideFault, CastFault.");
         int[] parents = {-1, 0, 1, 1, 1, 1, 1};
-        for (TaintHouse house : new TaintHouse[] {new TaintHouse(), t.house("class A { field x int; method f() none { ret; } }")}) {
+        for (TaintHouse house : new TaintHouse[] {new TaintHouse(),
+            t.house("class A { field x int; method f() none { ret; } }")}) {
             for (int c = 0; c < 7; c++) {
                 t.due("type(" + c + ", 0)", house.type(c, 0), parents[c]);
                 t.due("type(" + c + ", 1)", house.type(c, 1), 0);
@@ -475,8 +483,9 @@ public final class GrammarEdgeTest {
     private void numbersOfAll() {
         t.sentence("CLASSES are numbered 0 (Any) to 6, then from 7 on as they stand; METHODS, statics from 0 on as they stand.");
         String text = "class A { static s int; method f() int { push 0; ret; } static t int; virtual v() int { push 1; ret; } }"
-            + " class B : A { virtual v() int { push 2; ret; } static s int; } class C { } class D { method f() int { push 3; ret; }"
-            + " static t ref; method g() int { push 40; puts A s; push 41; puts A t; push 42; puts B s; new D; puts D t; push 4; ret; } }";
+            + " class B : A { virtual v() int { push 2; ret; } static s int; } class C { } class D { method f() int { push 3;"
+            + " ret; } static t ref; method g() int { push 40; puts A s; push 41; puts A t; push 42; puts B s; new D; puts D t;"
+            + " push 4; ret; } }";
         TaintHouse house = t.house(text);
         int[] owners = {7, 7, 8, 10, 10};
         for (int m = 0; m < 5; m++) {

@@ -42,8 +42,8 @@ public final class LimitEdgeTest {
 
     private void begins() {
         t.sentence("A RUN begins with statics 0 and null, no OBJECTS, no EVENTS; a METHOD has its ARGUMENTS.");
-        String text = "class A { static s int; static q ref; method f(int) int { gets A s; sink 1; gets A q; is Any; sink 2; load 0; sink 3;"
-            + " load 0; puts A s; new A; puts A q; inc 0 1; load 0; ret; } method g() none { ret; } }";
+        String text = "class A { static s int; static q ref; method f(int) int { gets A s; sink 1; gets A q; is Any; sink 2;"
+            + " load 0; sink 3; load 0; puts A s; new A; puts A q; inc 0 1; load 0; ret; } method g() none { ret; } }";
         TaintHouse house = t.house(text);
         house.argument(0, 5, 9);
         for (int round = 0; round < 3; round++) {
@@ -87,7 +87,8 @@ public final class LimitEdgeTest {
     private TaintHouse burnt(String last, int lastCount, int inAll) {
         int ahead = inAll - lastCount;
         String more = Tester.times(ahead % 3, "inc 1 1; ");
-        TaintHouse house = t.house("class A { method f(int, int) int { x: inc 0 - 1; load 0; ifgt x; " + more + last + " } method g() none { ret; } }");
+        TaintHouse house = t.house("class A { method f(int, int) int { x: inc 0 - 1; load 0; ifgt x; " + more + last
+            + " } method g() none { ret; } }");
         house.argument(0, ahead / 3, 0);
         return house;
     }
@@ -141,8 +142,8 @@ public final class LimitEdgeTest {
         house.argument(0, 6665, 0);
         t.dueRun(house, "the 3001st cell as 20001", 0, 4, 0, 0);
         dueCounts(house, "the 3001st cell as 20001", 20000, 0, 1, 3000);
-        String calls = "class A { method f(int, int) none { inc 0 - 1; load 0; ifgt r; x: inc 1 - 1; load 1; ifgt x; @call A n; ret;"
-            + " r: load 0; load 1; call A f; ret; } method n() none { ret; } }";
+        String calls = "class A { method f(int, int) none { inc 0 - 1; load 0; ifgt r; x: inc 1 - 1; load 1; ifgt x; @call A n;"
+            + " ret; r: load 0; load 1; call A f; ret; } method n() none { ret; } }";
         // 23 times 6 to the 24th method, 3 there, then 3 a round.
         house = t.house(calls.replace("@", "inc 1 1; "));
         house.argument(0, 24, 0);
@@ -158,9 +159,9 @@ public final class LimitEdgeTest {
 
     private void methods() {
         t.sentence("5 a 25th METHOD within one another would begin,");
-        String text = "class A { method f(int) int { load 0; sink 0; inc 0 - 1; load 0; ifgt x; push 7; ret; x: load 0; call A f; ret; }"
-            + " virtual v(int) int { load 1; sink 0; inc 1 - 1; load 1; ifgt x; push 7; ret; x: load 0; load 1; virt A v; ret; }"
-            + " method g(int) int { new A; load 0; virt A v; ret; } }";
+        String text = "class A { method f(int) int { load 0; sink 0; inc 0 - 1; load 0; ifgt x; push 7; ret; x: load 0;"
+            + " call A f; ret; } virtual v(int) int { load 1; sink 0; inc 1 - 1; load 1; ifgt x; push 7; ret; x: load 0;"
+            + " load 1; virt A v; ret; } method g(int) int { new A; load 0; virt A v; ret; } }";
         TaintHouse house = t.house(text);
         for (int n = 1; n <= 30; n++) {
             house.argument(0, n, 0);
@@ -172,8 +173,8 @@ public final class LimitEdgeTest {
             t.due("result(4)", house.result(4), Math.min(n, 23));
         }
         // One behind the other as many as there are instructions for; and no try catches a limit.
-        String loop = "class A { method f() int { push 1000; store 0; x: call A n; inc 0 - 1; load 0; ifgt x; push 3; ret; } method n() none { ret; }"
-            + " method g() int { a: call A g; ret; b: pop; push 3; ret; try a b b Any; } }";
+        String loop = "class A { method f() int { push 1000; store 0; x: call A n; inc 0 - 1; load 0; ifgt x; push 3; ret; }"
+            + " method n() none { ret; } method g() int { a: call A g; ret; b: pop; push 3; ret; try a b b Any; } }";
         t.dueRun(loop, 0, 1, 3, 0);
         house = t.dueRun(loop, 2, 5, 0, 0);
         dueCounts(house, "g in g", 23, 0, 0, 0);
@@ -205,7 +206,8 @@ public final class LimitEdgeTest {
                 dueCounts(house, word, 1, 0, 0, 0);
             }
         }
-        TaintHouse house = t.house("class A { method f() none { x: new Any; pop; goto x; } method g() none { x: push 0; ints; pop; goto x; } }");
+        TaintHouse house = t.house("class A { method f() none { x: new Any; pop; goto x; } method g() none { x: push 0; ints;"
+            + " pop; goto x; } }");
         t.dueRun(house, "new Any", 0, 6, 0, 0);
         dueCounts(house, "new Any", 9000, 0, 3000, 3000);
         t.due("object(2999, 0)", house.object(2999, 0), 0);
@@ -218,7 +220,8 @@ public final class LimitEdgeTest {
         t.sentence("(one each, and one for each FIELD, with those of classes above, or element),");
         StringBuilder text = new StringBuilder();
         for (int c = 0; c < 11; c++) {
-            text.append("class C").append(c).append(c == 0 ? "" : " : C" + (c - 1)).append(" { ").append(Tester.times(8, "field x% ref; "))
+            text.append("class C").append(c).append(c == 0 ? "" : " : C" + (c - 1)).append(" { ").append(Tester.times(8,
+                "field x% ref; "))
                 .append("} ");
         }
         // C10 has 88 fields: 89 cells; 33 of them take 2937, and 62 cells are left beside one more array.
@@ -257,11 +260,13 @@ public final class LimitEdgeTest {
 
     private void cellsOfThrown() {
         t.sentence("What is thrown takes its CELL, too.");
-        String[] faults = {"null; throw;", "null; length; pop; ret;", "push 1; push 0; div; pop; ret;", "push - 1; ints; pop; ret;",
+        String[] faults = {"null; throw;", "null; length; pop; ret;", "push 1; push 0; div; pop; ret;",
+            "push - 1; ints; pop; ret;",
             "load 1; push 9999; iget; pop; ret;", "load 1; length; pop; load 1; as A; pop; ret;"};
         int[] dones = {2, 2, 3, 2, 3, 5};
         for (int i = 0; i < faults.length; i++) {
-            String text = "class A { method f(int) none { load 0; ints; store 1; " + faults[i] + " } method g(int) int { load 0; ints; store 1; a: "
+            String text = "class A { method f(int) none { load 0; ints; store 1; " + faults[i] + " } method g(int) int { load"
+                + " 0; ints; store 1; a: "
                 + faults[i].replace("ret;", "push 1; ret;") + " b: pop; push 3; ret; try a b b Any; } }";
             TaintHouse house = t.house(text);
             house.argument(0, 2998, 0);
@@ -276,8 +281,8 @@ public final class LimitEdgeTest {
             }
         }
         // What is an object already takes none: it is thrown where no cell is left.
-        String full = "class A { method f() none { new A; push 2998; ints; pop; throw; } method g() int { a: push 2999; ints; throw; b: length; ret;"
-            + " try a b b Any; } }";
+        String full = "class A { method f() none { new A; push 2998; ints; pop; throw; } method g() int { a: push 2999; ints;"
+            + " throw; b: length; ret; try a b b Any; } }";
         TaintHouse house = t.house(full);
         t.dueRun(house, full, 0, 3, 0, 0);
         dueCounts(house, full, 5, 0, 2, 3000);
@@ -286,8 +291,9 @@ public final class LimitEdgeTest {
 
     private void numbers() {
         t.sentence("OBJECTS and ARRAYS are numbered from 0 on as they are made (FAULTS, too).");
-        String text = "class A { field r ref; method f() ref { push 2; refs; store 0; new A; store 1; a: null; throw; b: store 2; push 1; ints; store 3;"
-            + " load 1; load 2; put A r; load 0; push 1; load 3; rput; load 0; push 0; load 1; rput; load 3; ret; try a b b Any; } }";
+        String text = "class A { field r ref; method f() ref { push 2; refs; store 0; new A; store 1; a: null; throw; b:"
+            + " store 2; push 1; ints; store 3; load 1; load 2; put A r; load 0; push 1; load 3; rput; load 0; push 0; load 1;"
+            + " rput; load 3; ret; try a b b Any; } }";
         TaintHouse house = t.dueRun(text, 0, 2, 3, 0);
         int[] classes = {-3, 7, 2, -2, -1};
         for (int i = 0; i < classes.length; i++) {
@@ -308,7 +314,8 @@ public final class LimitEdgeTest {
         t.due("result(3) of what is caught", house.result(3), 3);
         house = t.dueRun("class A { method f() none { call A f; ret; } }", 0, 5, 0, 0);
         t.due("result(3) at limit 5", house.result(3), 23);
-        house = t.dueRun("class A { method f() none { new A; virt A v; ret; } virtual v() none { load 0; virt A v; ret; } }", 0, 5, 0, 0);
+        house = t.dueRun("class A { method f() none { new A; virt A v; ret; } virtual v() none { load 0; virt A v; ret; } }", 0,
+            5, 0, 0);
         t.due("result(3) at limit 5", house.result(3), 2 + 22 * 2 + 1);
         house = t.dueRun("class A { method f() none { push 3000; ints; ret; } }", 0, 6, 0, 0);
         t.due("result(3) at limit 6", house.result(3), 1);
@@ -323,8 +330,8 @@ public final class LimitEdgeTest {
     private void askedAheadOfLimits() {
         t.sentence("At one INSTRUCTION: null, what the ref is, index, length, 0; then LIMITS.");
         // In the 24th method: what is null or of another class is thrown, the limit comes for the others alone.
-        String deep = "class A { method f(int) none { inc 0 - 1; load 0; ifgt x; @; virt A v; ret; x: load 0; call A f; ret; } virtual v() none { ret; } }"
-            + " class B { }";
+        String deep = "class A { method f(int) none { inc 0 - 1; load 0; ifgt x; @; virt A v; ret; x: load 0; call A f; ret; }"
+            + " virtual v() none { ret; } } class B { }";
         String[] refs = {"null", "new B", "push 0; ints", "new A"};
         int[] faults = {2, 6, 6, -1};
         for (int i = 0; i < refs.length; i++) {
@@ -336,8 +343,9 @@ public final class LimitEdgeTest {
             t.due("run(0) with " + refs[i], house.run(0), faults[i] < 0 ? 0 : 3);
         }
         // A length below 0 is asked ahead of cells, whether there are any left or not.
-        String text = "class A { method f(int, int) none { load 0; ints; store 2; load 1; ints; ret; } method g(int, int) none { load 0; ints; load 1; iget; ret; }"
-            + " method h(int, int) none { load 0; ints; store 2; load 1; load 1; rem; ret; } }";
+        String text = "class A { method f(int, int) none { load 0; ints; store 2; load 1; ints; ret; } method g(int,"
+            + " int) none { load 0; ints; load 1; iget; ret; } method h(int, int) none { load 0; ints; store 2; load 1; load 1;"
+            + " rem; ret; } }";
         TaintHouse house = t.house(text);
         for (int m = 0; m < 3; m++) {
             house.argument(0, 2998, 0);
@@ -357,7 +365,8 @@ public final class LimitEdgeTest {
 
     private void lengthsTakeNoCell() {
         t.sentence("A LENGTH takes no CELL.");
-        String text = "class A { method f(int) none { load 0; ints; pop; ret; } method g(int) none { load 0; refs; length; pop; ret; } }";
+        String text = "class A { method f(int) none { load 0; ints; pop; ret; } method g(int) none { load 0; refs; length; pop;"
+            + " ret; } }";
         TaintHouse house = t.house(text);
         for (int length : new int[] {0, 1, 10, 2999}) {
             house.argument(0, length, 65535);
@@ -372,9 +381,10 @@ public final class LimitEdgeTest {
 
     private void stays() {
         t.sentence("What was done ahead of a LIMIT stays to be asked.");
-        String text = "class A { field x int; static s int; static q ref; method f(int) none { new A; puts A q; gets A q; push 6; mark 3; put A x;"
-            + " push 8; mark 9; puts A s; source 2; sink 4; load 0; ifeq a; load 0; push 1; cmpeq b; load 0; push 2; cmpeq c; d: source 2; sink 4; goto d;"
-            + " a: goto a; b: push 1; call A f; ret; c: push 9; refs; pop; goto c; } }";
+        String text = "class A { field x int; static s int; static q ref; method f(int) none { new A; puts A q; gets A q;"
+            + " push 6; mark 3; put A x; push 8; mark 9; puts A s; source 2; sink 4; load 0; ifeq a; load 0; push 1; cmpeq b;"
+            + " load 0; push 2; cmpeq c; d: source 2; sink 4; goto d; a: goto a; b: push 1; call A f; ret; c: push 9; refs;"
+            + " pop; goto c; } }";
         TaintHouse house = t.house(text);
         house.input(2, 77);
         house.policy(4, 4);
@@ -401,8 +411,8 @@ public final class LimitEdgeTest {
 
     private void settingsAtRun() {
         t.sentence("FLOWS are 1, 2, 4, as they are at run(); INPUTS, POLICIES likewise.");
-        String text = "class A { method f() int { push 3; ints; source 1; push 5; mark 8; iput; source 2; sink 6; push 3; ints; length; pop;"
-            + " push 3; ints; source 1; iget; ret; } }";
+        String text = "class A { method f() int { push 3; ints; source 1; push 5; mark 8; iput; source 2; sink 6; push 3; ints;"
+            + " length; pop; push 3; ints; source 1; iget; ret; } }";
         TaintHouse house = t.house(text);
         house.flows(1);
         house.input(1, 2);

@@ -6,7 +6,8 @@ public final class ThrowEdgeTest {
     private static final int DIVIDE = 5;
     private static final int CAST = 6;
     private static final String CLASSES = "class A { field x int; field r ref; static s int;"
-        + " virtual v(int, ref, int, ref, int, ref) int { push 1; ret; } virtual w() none { ret; } } class B : A { } class C { field x int; } ";
+        + " virtual v(int, ref, int, ref, int, ref) int { push 1; ret; } virtual w() none { ret; } } class B : A { }"
+        + " class C { field x int; } ";
 
     private final Tester t;
 
@@ -50,14 +51,16 @@ public final class ThrowEdgeTest {
     /** Code that throws a fault as its last instruction; it ends so, and so does it with a try around it that catches it. */
     private void due(int fault, int marks, String code) {
         for (int flows = 0; flows < 8; flows++) {
-            TaintHouse house = house("a: " + code + " ret; b: ret; try a b b " + Words.FIRST_CLASSES.get(fault == NULL ? CAST : NULL) + ";");
+            TaintHouse house = house("a: " + code + " ret; b: ret; try a b b "
+                + Words.FIRST_CLASSES.get(fault == NULL ? CAST : NULL) + ";");
             house.flows(flows);
             t.due("run(2) of " + code, house.run(2), 3);
             int last = house.result(6) - 1;
             t.due("result(1) of " + code, house.result(1), last);
             t.due("marks of " + code + " with flows " + flows, house.result(2), marks);
             t.due("the fault of " + code, house.object(last, 0), fault);
-            TaintHouse caught = house("a: " + code + " ret; b: is " + Words.FIRST_CLASSES.get(fault) + "; sink 7; ret; try a b b Any;");
+            TaintHouse caught = house("a: " + code + " ret; b: is " + Words.FIRST_CLASSES.get(fault)
+                + "; sink 7; ret; try a b b Any;");
             caught.flows(flows);
             t.due("run(2) of " + code + " with a try", caught.run(2), 0);
             t.due("event(0, 1)", caught.event(0, 1), 1);
@@ -144,7 +147,8 @@ public final class ThrowEdgeTest {
         t.sentence("an index outside: a BoundsFault;");
         int[] lengths = {0, 1, 2, 7};
         for (int length : lengths) {
-            for (String index : new String[] {"- 2147483648", "- 1", String.valueOf(length), String.valueOf(length + 1), "2147483647"}) {
+            for (String index : new String[] {"- 2147483648", "- 1", String.valueOf(length), String.valueOf(length + 1),
+                "2147483647"}) {
                 due(BOUNDS, 16, "push " + length + "; ints; push " + index + "; mark 16; iget;");
                 due(BOUNDS, 20, "push " + length + "; ints; push " + index + "; mark 16; load 2; iput;");
                 due(BOUNDS, 16, "push " + length + "; refs; push " + index + "; mark 16; rget;");
@@ -195,8 +199,8 @@ public final class ThrowEdgeTest {
 
     private void newObjects() {
         t.sentence("It is a new OBJECT;");
-        String text = "class A { method f() none { new A; pop; a: push 1; push 0; div; pop; ret; b: puts A s; c: null; throw; d: puts A q; new A; pop;"
-            + " push - 1; ints; ret; try a b b Any; try c d d Any; } static s ref; static q ref; }";
+        String text = "class A { method f() none { new A; pop; a: push 1; push 0; div; pop; ret; b: puts A s; c: null; throw;"
+            + " d: puts A q; new A; pop; push - 1; ints; ret; try a b b Any; try c d d Any; } static s ref; static q ref; }";
         TaintHouse house = t.dueRun(text, 0, 3, 4, 0);
         int[] classes = {7, DIVIDE, NULL, 7, SIZE};
         for (int i = 0; i < classes.length; i++) {
@@ -208,8 +212,8 @@ public final class ThrowEdgeTest {
         t.due("stat(1, 0)", house.stat(1, 0), 2);
         t.due("result(6)", house.result(6), 5);
         // One of its own each time, also for the same instruction.
-        String again = "class A { static s ref; method f() int { push 3; store 0; a: null; throw; b: dup; gets A s; same x; puts A s;"
-            + " inc 0 - 1; load 0; ifgt a; push 7; ret; x: push 8; ret; try a b b Any; } }";
+        String again = "class A { static s ref; method f() int { push 3; store 0; a: null; throw; b: dup; gets A s; same x;"
+            + " puts A s; inc 0 - 1; load 0; ifgt a; push 7; ret; x: push 8; ret; try a b b Any; } }";
         house = t.dueRun(again, 0, 1, 7, 0);
         t.due("result(6)", house.result(6), 3);
         // What throws itself an object makes none.
@@ -239,8 +243,8 @@ public final class ThrowEdgeTest {
     }
 
     private void marksWhateverFlowsAre() {
-        t.sentence("The ref of a FAULT has the MARKS of all that the INSTRUCTION took (virt: the ref and all KINDS; iput, rput: all three;"
-            + " thrown null: its own), whatever FLOWS are.");
+        t.sentence("The ref of a FAULT has the MARKS of all that the INSTRUCTION took (virt: the ref and all KINDS; iput, rput:"
+            + " all three; thrown null: its own), whatever FLOWS are.");
         due(NULL, 63, "load 1; load 0; load 1; load 2; load 3; load 4; load 5; virt A v;");
         due(NULL, 43, "load 1; load 0; load 1; push 2; load 3; push 4; load 5; virt A v;");
         due(CAST, 42, "new C; push 0; load 1; push 2; load 3; push 4; load 5; virt A v;");
@@ -309,7 +313,8 @@ public final class ThrowEdgeTest {
 
     private void whichClass() {
         t.sentence("lies in and of whose class it is:");
-        String[] classes = {"Any", "Fault", "NullFault", "BoundsFault", "SizeFault", "DivideFault", "CastFault", "E", "F", "G", "M"};
+        String[] classes = {"Any", "Fault", "NullFault", "BoundsFault", "SizeFault", "DivideFault", "CastFault", "E", "F", "G",
+            "M"};
         String[] thrown = {"new E; throw;", "new F; throw;", "new G; throw;", "new M; throw;", "new Any; throw;", "null; throw;",
             "push 1; push 0; div; ret;", "push - 1; ints; throw;", "new G; as E; throw;", "push 0; ints; push 0; iget; ret;"};
         String[] caught = {"0,1,5,7", "0,1,5,7,8", "0,1,9", "0,10", "0", "0,1,2", "0,1,5", "0,1,4", "0,1,6", "0,1,3"};
@@ -325,8 +330,8 @@ public final class ThrowEdgeTest {
 
     private void throughCalls() {
         t.sentence("(in METHODS that called: the call)");
-        String told = "class M { method g() none { null; throw; } virtual v() none { null; throw; } method h() none { call M g; ret; }"
-            + " method f() int { ";
+        String told = "class M { method g() none { null; throw; } virtual v() none { null; throw; } method h() none { call M g;"
+            + " ret; } method f() int { ";
         for (String call : new String[] {"call M g; ", "call M h; ", "new M; virt M v; "}) {
             String word = call.replace("new M; ", "new M; c: ").replaceFirst("^call", "c: call");
             String body = "a: push 1; b: pop; " + word + "d: push 2; e: ret; x: pop; push 10; ret; ";
@@ -343,14 +348,15 @@ public final class ThrowEdgeTest {
         }
         // The nearest method that has a try that fits, not the first or the last one.
         String text = "class M { method a() int { p: call M b; ret; q: pop; push 1; ret; try p q q Any; }"
-            + " method b() int { p: call M c; ret; q: pop; push 2; ret; try p q q @; } method c() int { p: call M d; ret; q: pop; push 3; ret;"
-            + " try q r q Any; r: } method d() int { push 1; push 0; div; ret; } }";
+            + " method b() int { p: call M c; ret; q: pop; push 2; ret; try p q q @; } method c() int { p: call M d; ret; q:"
+            + " pop; push 3; ret; try q r q Any; r: } method d() int { push 1; push 0; div; ret; } }";
         t.dueRun(text.replace("@", "DivideFault"), 0, 1, 2, 0);
         t.dueRun(text.replace("@", "NullFault"), 0, 1, 1, 0);
         t.dueRun(text.replace("@", "Any"), 2, 3, 0, 0);
         // Through as many methods as there may be.
-        String deep = "class M { method f(int) int { a: inc 0 - 1; load 0; ifgt x; push 1; source 3; div; ret; x: load 0; call M f; ret; b: ret;"
-            + " try a b c NullFault; c: pop; push 1; ret; } method g() int { a: push 23; call M f; ret; b: is DivideFault; ret; try a b b Fault; } }";
+        String deep = "class M { method f(int) int { a: inc 0 - 1; load 0; ifgt x; push 1; source 3; div; ret; x: load 0;"
+            + " call M f; ret; b: ret; try a b c NullFault; c: pop; push 1; ret; } method g() int { a: push 23; call M f; ret;"
+            + " b: is DivideFault; ret; try a b b Fault; } }";
         TaintHouse house = t.house(deep);
         t.dueRun(house, deep, 1, 1, 1, 8);
         t.due("result(6)", house.result(6), 1);
@@ -359,38 +365,42 @@ public final class ThrowEdgeTest {
     private void theRefAlone() {
         t.sentence("the STACK is the ref alone, with its MARKS.");
         // Behind fifteen values and a null the handler has room for fifteen more; locals are as they were.
-        String text = "class A { method f(int, ref) int { push 7; store 9; a: inc 0 5; " + Tester.times(15, "push 1; ") + "load 1; throw; b: is NullFault; "
+        String text = "class A { method f(int, ref) int { push 7; store 9; a: inc 0 5; " + Tester.times(15, "push 1; ")
+            + "load 1; throw; b: is NullFault; "
             + Tester.times(15, "push 1; ") + Tester.times(15, "add; ") + "load 0; mul; load 9; add; ret; try a b b Any; } }";
         TaintHouse house = t.house(text);
         house.argument(0, 1, 4);
         house.argument(1, 0, 64);
         t.dueRun(house, text, 0, 1, 16 * 6 + 7, 68);
         // Nothing is below the ref: there is room for a call with what the handler pushed, and for as many rounds as one likes.
-        String room = "class A { method g(int) int { " + Tester.times(15, "push 50; ") + "store 15; store 14; store 13; store 12; store 11; store 10;"
-            + " store 9; store 8; store 7; store 6; store 5; store 4; store 3; store 2; store 1; load 0; ret; } method f() int { push 100; store 0; a: "
-            + Tester.times(15, "push 1; ") + "null; throw; b: is NullFault; " + Tester.times(14, "push 1; ") + "push 7; call A g; "
+        String room = "class A { method g(int) int { " + Tester.times(15, "push 50; ") + "store 15; store 14; store 13; store"
+            + " 12; store 11; store 10; store 9; store 8; store 7; store 6; store 5; store 4; store 3; store 2; store 1;"
+            + " load 0; ret; } method f() int { push 100; store 0; a: "
+            + Tester.times(15, "push 1; ") + "null; throw; b: is NullFault; " + Tester.times(14, "push 1; ")
+            + "push 7; call A g; "
             + Tester.times(15, "add; ") + "store 1; inc 0 - 1; load 0; ifgt a; load 1; ret; try a b b Any; } }";
         t.dueRun(room, 1, 1, 22, 0);
-        String full = "class A { method g() none { " + Tester.times(16, "push 50; ") + Tester.times(16, "store %; ") + "ret; } method f() int { a: "
+        String full = "class A { method g() none { " + Tester.times(16, "push 50; ") + Tester.times(16, "store %; ")
+            + "ret; } method f() int { a: "
             + Tester.times(15, "push 1; ") + "null; throw; b: is NullFault; " + Tester.times(15, "push %; ") + "call A g; "
             + Tester.times(15, "add; ") + "ret; try a b b Any; } }";
         t.dueRun(full, 1, 1, 106, 0);
         // An object that is thrown keeps the marks that its ref has, and is the same one.
-        String same = "class A { static s ref; method f() int { a: source 2; push 0; div; ret; b: dup; puts A s; c: throw; d: dup; gets A s; same x;"
-            + " push 1; ret; x: is Any; ret; try a b b Any; try c d d Any; } method g() int { a: new A; dup; puts A s; throw; b: dup; gets A s; other x;"
-            + " is A; ret; x: push 5; ret; try a b b Any; } }";
+        String same = "class A { static s ref; method f() int { a: source 2; push 0; div; ret; b: dup; puts A s; c: throw; d:"
+            + " dup; gets A s; same x; push 1; ret; x: is Any; ret; try a b b Any; try c d d Any; } method g() int { a: new A;"
+            + " dup; puts A s; throw; b: dup; gets A s; other x; is A; ret; x: push 5; ret; try a b b Any; } }";
         house = t.house(same);
         t.dueRun(house, same, 0, 1, 1, 4);
         t.dueRun(house, same, 1, 1, 1, 0);
         // Values of methods that called are there again where the call's method goes on; those below the call are gone.
-        t.dueRun("class A { method g() none { push 8; push 9; null; throw; } method h() int { push 5; a: call A g; b: ret; c: pop; push 6; ret;"
-            + " try a b c Any; } method f() int { push 100; call A h; add; ret; } }", 2, 1, 106, 0);
+        t.dueRun("class A { method g() none { push 8; push 9; null; throw; } method h() int { push 5; a: call A g; b: ret; c:"
+            + " pop; push 6; ret; try a b c Any; } method f() int { push 100; call A h; add; ret; } }", 2, 1, 106, 0);
     }
 
     private void methodsThatAreLeft() {
         t.sentence("Where there is none the METHOD is left.");
-        String text = "class A { method f() ref { a: call A g; b: ret; try a b c DivideFault; c: ret; } method g() ref { push 1; push 2; source 5; ints; throw; }"
-            + " method h() none { null; throw; } }";
+        String text = "class A { method f() ref { a: call A g; b: ret; try a b c DivideFault; c: ret; }"
+            + " method g() ref { push 1; push 2; source 5; ints; throw; } method h() none { null; throw; } }";
         TaintHouse house = t.house(text);
         house.input(5, 3);
         t.dueRun(house, text, 0, 3, 0, 0);
@@ -417,8 +427,9 @@ public final class ThrowEdgeTest {
             t.dueRun(used, others, 1, 3, 0, 0);
         }
         // A method that is left counts no more among those within one another.
-        String often = "class A { method f() int { push 100; store 0; a: push 20; call A g; b: push 1; ret; c: pop; inc 0 - 1; load 0; ifgt a; push 7; ret;"
-            + " try a b c Any; } method g(int) none { inc 0 - 1; load 0; ifgt x; null; throw; x: load 0; call A g; ret; } }";
+        String often = "class A { method f() int { push 100; store 0; a: push 20; call A g; b: push 1; ret; c: pop; inc 0 - 1;"
+            + " load 0; ifgt a; push 7; ret; try a b c Any; } method g(int) none { inc 0 - 1; load 0; ifgt x; null; throw; x:"
+            + " load 0; call A g; ret; } }";
         t.dueRun(often, 0, 1, 7, 0);
     }
 
@@ -427,7 +438,8 @@ public final class ThrowEdgeTest {
         for (String word : new String[] {"ints", "refs"}) {
             String body = "a: push 3; " + word + "; throw; b: ";
             dueWay(body, "try a b y Any;", 20);
-            for (String other : new String[] {"Fault", "NullFault", "BoundsFault", "SizeFault", "DivideFault", "CastFault", "E", "M"}) {
+            for (String other : new String[] {"Fault", "NullFault", "BoundsFault", "SizeFault", "DivideFault", "CastFault", "E",
+                "M"}) {
                 dueWay(body, "try a b x " + other + ";", 3);
                 dueWay(body, "try a b x " + other + "; try a b z Any;", 30);
             }

@@ -292,7 +292,8 @@ public final class TokenEdgeTest {
         t.dueInt("push -2147483647; ret;", -2147483647, 0);
         t.dueInt("push 2147483647; ret;", Integer.MAX_VALUE, 0);
         t.dueWrong(code("push -~2147483649;"));
-        for (String ahead : new String[] {"push", "load", "store", "inc", "inc 3", "inc 3 -", "source", "sink", "clean", "mark"}) {
+        for (String ahead : new String[] {"push", "load", "store", "inc", "inc 3", "inc 3 -", "source", "sink", "clean",
+            "mark"}) {
             t.dueWrong(code(ahead + " ~2147483648;"));
         }
         t.dueWrong("~2147483648");

@@ -111,9 +111,10 @@ public final class ValueEdgeTest {
 
     private void held() {
         t.sentence("A FIELD, static, element, LENGTH of an array holds a VALUE with its MARKS.");
-        String text = "class A { field x int; field r ref; static s int; static q ref; method f(int, ref) none { new A; store 5; load 5; load 0;"
-            + " put A x; load 5; load 1; put A r; load 0; puts A s; load 1; puts A q; push 3; ints; store 6; load 6; push 1; load 0; iput;"
-            + " push 3; refs; store 7; load 7; push 2; load 1; rput; load 0; ints; pop; ret; } }";
+        String text = "class A { field x int; field r ref; static s int; static q ref; method f(int, ref) none { new A;"
+            + " store 5; load 5; load 0; put A x; load 5; load 1; put A r; load 0; puts A s; load 1; puts A q; push 3; ints;"
+            + " store 6; load 6; push 1; load 0; iput; push 3; refs; store 7; load 7; push 2; load 1; rput; load 0; ints; pop;"
+            + " ret; } }";
         TaintHouse house = t.house(text);
         house.argument(0, 4, 65535);
         house.argument(1, 4, 32769);
@@ -135,10 +136,10 @@ public final class ValueEdgeTest {
     private void atFirst() {
         t.sentence("At first they are 0, null, without MARKS.");
         String fields = "field a int; field b ref; field c ref; field d int; ";
-        String text = "class A { " + fields + "static s int; static q ref; method fill(int) none { load 0; ints; store 1; push 0; store 2;"
-            + " x: load 1; load 2; load 0; iput; inc 2 1; load 2; load 0; cmplt x; load 0; puts A s; new A; puts A q; ret; }"
-            + " method make() none { push 5; refs; pop; push 5; ints; pop; new B; pop; push 0; ints; pop; new A; pop; ret; } }"
-            + " class B : A { field e int; field f ref; }";
+        String text = "class A { " + fields + "static s int; static q ref; method fill(int) none { load 0; ints; store 1;"
+            + " push 0; store 2; x: load 1; load 2; load 0; iput; inc 2 1; load 2; load 0; cmplt x; load 0; puts A s; new A;"
+            + " puts A q; ret; } method make() none { push 5; refs; pop; push 5; ints; pop; new B; pop; push 0; ints; pop;"
+            + " new A; pop; ret; } } class B : A { field e int; field f ref; }";
         TaintHouse house = t.house(text);
         house.argument(0, 1000, 65535);
         // What the first run leaves must not be seen in what the second one makes at the same place.
@@ -185,10 +186,11 @@ public final class ValueEdgeTest {
         t.dueInt("source 3; store 2; inc 2 32767; load 2; ret;", 32771, 8);
         t.dueInt("source 3; store 2; inc 2 - 32767; load 2; ret;", -32763, 8);
         t.dueInt("push 3; store 2; inc 2 1; load 2; ret;", 4, 0);
-        String text = "class A { method six(int, ref, int, ref, int, ref) int { load 0; sink 0; load 1; is Any; sink 1; load 2; sink 2;"
-            + " load 3; is Any; sink 3; load 4; sink 4; load 5; is Any; sink 5; load 4; ret; }"
-            + " virtual seven(int, ref, int, ref, int, ref) ref { load 1; load 2; load 3; load 4; load 5; load 6; call A six; pop; load 2; ret; }"
-            + " method f(int, ref, int, ref, int, ref) ref { new A; load 0; load 1; load 2; load 3; load 4; load 5; virt A seven; ret; } }";
+        String text = "class A { method six(int, ref, int, ref, int, ref) int { load 0; sink 0; load 1; is Any; sink 1; load 2;"
+            + " sink 2; load 3; is Any; sink 3; load 4; sink 4; load 5; is Any; sink 5; load 4; ret; } virtual seven(int, ref,"
+            + " int, ref, int, ref) ref { load 1; load 2; load 3; load 4; load 5; load 6; call A six; pop; load 2; ret; }"
+            + " method f(int, ref, int, ref, int, ref) ref { new A; load 0; load 1; load 2; load 3; load 4; load 5;"
+            + " virt A seven; ret; } }";
         TaintHouse house = t.house(text);
         for (int i = 0; i < 6; i++) {
             house.argument(i, 10 + i, 1 << 2 * i);
@@ -257,8 +259,8 @@ public final class ValueEdgeTest {
     }
 
     private void theOneBelow() {
-        t.sentence("Of two VALUES the one below is the first: 7 and then 2 on top of it: sub makes 5, div 3, rem 1, shl 28, shr 1;"
-            + " cmpgt, cmpge L go to L, cmplt, cmple don't.");
+        t.sentence("Of two VALUES the one below is the first: 7 and then 2 on top of it: sub makes 5, div 3, rem 1, shl 28,"
+            + " shr 1; cmpgt, cmpge L go to L, cmplt, cmple don't.");
         sum(7, 2, "sub", 5);
         sum(7, 2, "div", 3);
         sum(7, 2, "rem", 1);
@@ -349,7 +351,8 @@ public final class ValueEdgeTest {
         for (int k = 0; k < 16; k++) {
             told.append("push ").append(30 + k).append("; mark ").append(1 << k).append("; puts A s").append(k).append("; ");
         }
-        String text = "class A { " + fields + statics + "} class B : A { " + fields + "} class M { method f() int { " + write + more
+        String text = "class A { " + fields + statics + "} class B : A { " + fields + "} class M { method f() int { " + write
+            + more
             + "load 0; get A x7; load 0; get B x7; mul; ret; } method g() int { " + told + "gets B s15; ret; } }";
         TaintHouse house = t.house(text);
         t.dueRun(house, text, 0, 1, 17 * 27, 0);
@@ -376,7 +379,8 @@ public final class ValueEdgeTest {
             t.dueInt("push 10; ints; store 0; load 0; " + at + "push 77; iput; load 0; " + at + "iget; ret;", 77, 0);
             t.dueInt("push 10; refs; store 0; load 0; " + at + "load 0; rput; load 0; " + at + "rget; length; ret;", 10, 0);
         }
-        TaintHouse house = t.dueInt("push 3; ints; dup; push 0; push 5; iput; dup; push 2; push 6; iput; push 1; iget; ret;", 0, 0);
+        TaintHouse house = t.dueInt("push 3; ints; dup; push 0; push 5; iput; dup; push 2; push 6; iput; push 1; iget; ret;", 0,
+            0);
         int[] want = {5, 0, 6};
         for (int k = 0; k < 3; k++) {
             t.due("slot(0, " + k + ", 0)", house.slot(0, k, 0), want[k]);
@@ -413,9 +417,10 @@ public final class ValueEdgeTest {
         t.dueInt(element + "load 0; push 1; source 5; iput; load 0; push 1; iget; ret;", 6, 32);
         t.dueInt(element + "load 0; push 1; push 5; iput; load 0; push 1; iget; ret;", 5, 0);
         t.dueInt(element + "load 0; source 0; iget; ret;", 4, 8);
-        String text = "class A { method f(ref) int { push 2; refs; store 1; load 1; push 1; load 0; rput; load 1; push 1; rget; is Any; ret; }"
-            + " method g(ref) int { push 2; refs; store 1; load 1; push 1; load 0; rput; load 1; push 1; null; rput; load 1; push 1; rget;"
-            + " is Any; ret; } method h(ref) int { push 2; refs; store 1; load 1; push 1; load 0; rput; load 1; push 0; rget; is Any; ret; } }";
+        String text = "class A { method f(ref) int { push 2; refs; store 1; load 1; push 1; load 0; rput; load 1; push 1; rget;"
+            + " is Any; ret; } method g(ref) int { push 2; refs; store 1; load 1; push 1; load 0; rput; load 1; push 1; null;"
+            + " rput; load 1; push 1; rget; is Any; ret; } method h(ref) int { push 2; refs; store 1; load 1; push 1; load 0;"
+            + " rput; load 1; push 0; rget; is Any; ret; } }";
         TaintHouse house = t.house(text);
         house.argument(0, 0, 65535);
         t.dueRun(house, text, 0, 1, 0, 65535);
@@ -446,11 +451,11 @@ public final class ValueEdgeTest {
      * locals 0 to 2 have marks 1, 2 and 8, those of the indices by which they were got; the index's marks are 16, a value's 256.
      */
     private void flows(String code, int always, int index, int read, int written) {
-        String text = "class A { field x int; field r ref; method f(ref) int { push 3; refs; store 9; load 9; push 0; new A; rput;"
-            + " load 9; push 1; source 5; ints; rput; load 9; push 2; push 3; refs; rput; load 9; push 0; rget; store 3;"
-            + " load 9; push 1; rget; store 4; load 9; push 2; rget; store 5; load 4; push 1; push 0; mark 64; iput;"
-            + " load 5; push 1; load 0; rput; load 3; push 0; mark 4; put A x; load 9; push 0; mark 1; rget; store 0;"
-            + " load 9; push 1; mark 2; rget; store 1; load 9; push 2; mark 8; rget; store 2; " + code + " ret; } }";
+        String text = "class A { field x int; field r ref; method f(ref) int { push 3; refs; store 9; load 9; push 0; new A;"
+            + " rput; load 9; push 1; source 5; ints; rput; load 9; push 2; push 3; refs; rput; load 9; push 0; rget; store 3;"
+            + " load 9; push 1; rget; store 4; load 9; push 2; rget; store 5; load 4; push 1; push 0; mark 64; iput; load 5;"
+            + " push 1; load 0; rput; load 3; push 0; mark 4; put A x; load 9; push 0; mark 1; rget; store 0; load 9; push 1;"
+            + " mark 2; rget; store 1; load 9; push 2; mark 8; rget; store 2; " + code + " ret; } }";
         TaintHouse house = t.house(text);
         house.input(4, 1);
         house.input(5, 3);
@@ -559,7 +564,8 @@ public final class ValueEdgeTest {
 
     private void whatAnObjectIs() {
         t.sentence("An OBJECT is of its class and of all above it; an ARRAY of Any alone.");
-        String[] classes = {"Any", "Fault", "NullFault", "BoundsFault", "SizeFault", "DivideFault", "CastFault", "P", "Q", "R", "S"};
+        String[] classes = {"Any", "Fault", "NullFault", "BoundsFault", "SizeFault", "DivideFault", "CastFault", "P", "Q", "R",
+            "S"};
         int[] parents = {-1, 0, 1, 1, 1, 1, 1, 6, 7, 8, 0};
         String told = "class P : CastFault { } class Q : P { } class R : Q { } class S { } ";
         for (int of = 0; of < classes.length; of++) {
@@ -603,11 +609,13 @@ public final class ValueEdgeTest {
     private static final int CAST_FAULT = -6;
 
     private void mustBeObjects() {
-        t.sentence("get, put C: the ref must be an OBJECT of C; virt C: likewise (the METHOD is that of the NAME in the OBJECT's class,"
-            + " or else the next one above);");
+        t.sentence("get, put C: the ref must be an OBJECT of C; virt C: likewise (the METHOD is that of the NAME in the"
+            + " OBJECT's class, or else the next one above);");
         String told = "class A { field x int; virtual v() int { push 1; ret; } } class B : A { virtual v() int { push 2; ret; } }"
-            + " class C : B { } class D : C { virtual v() int { push 4; ret; } method w() none { ret; } } class E : A { } class X { field x int; }";
-        String[] makes = {"new A;", "new B;", "new C;", "new D;", "new E;", "new X;", "new Any;", "push 1; ints;", "push 1; refs;", "null;"};
+            + " class C : B { } class D : C { virtual v() int { push 4; ret; } method w() none { ret; } } class E : A { }"
+            + " class X { field x int; }";
+        String[] makes = {"new A;", "new B;", "new C;", "new D;", "new E;", "new X;", "new Any;", "push 1; ints;",
+            "push 1; refs;", "null;"};
         int[] virts = {1, 2, 2, 4, 1};
         String[] asks = {"A", "B", "C", "D", "E"};
         String[] below = {"01234", "123", "23", "3", "4"};
@@ -641,13 +649,13 @@ public final class ValueEdgeTest {
 
     private void callsAndReturns() {
         t.sentence("call C NAME; virt C NAME; ret; throw; is C; as C;");
-        String text = "class A { method six(int, int, int, int, int, int) int { load 0; load 1; sub; load 2; sub; load 3; sub; load 4; sub;"
-            + " load 5; sub; ret; } virtual seven(int, int, int, int, int, int) int { load 1; load 2; load 3; load 4; load 5; load 6;"
-            + " call A six; load 0; is A; add; ret; }"
-            + " method f() int { push 100; push 1; push 2; push 3; push 4; push 5; call A six; ret; }"
-            + " method g() int { new A; push 100; push 1; push 2; push 3; push 4; push 5; virt A seven; ret; }"
-            + " method n() none { push 1; push 2; ret; } method h() int { push 7; call A n; push 8; call A n; sub; ret; }"
-            + " method k(int) int { load 0; ifgt x; push 1; ret; x: load 0; load 0; push 1; sub; call A k; mul; ret; } }";
+        String text = "class A { method six(int, int, int, int, int, int) int { load 0; load 1; sub; load 2; sub; load 3; sub;"
+            + " load 4; sub; load 5; sub; ret; } virtual seven(int, int, int, int, int, int) int { load 1; load 2; load 3;"
+            + " load 4; load 5; load 6; call A six; load 0; is A; add; ret; } method f() int { push 100; push 1; push 2;"
+            + " push 3; push 4; push 5; call A six; ret; } method g() int { new A; push 100; push 1; push 2; push 3; push 4;"
+            + " push 5; virt A seven; ret; } method n() none { push 1; push 2; ret; } method h() int { push 7; call A n;"
+            + " push 8; call A n; sub; ret; } method k(int) int { load 0; ifgt x; push 1; ret; x: load 0; load 0; push 1; sub;"
+            + " call A k; mul; ret; } }";
         TaintHouse house = t.house(text);
         t.dueRun(house, text, 2, 1, 85, 0);
         t.dueRun(house, text, 3, 1, 86, 0);
