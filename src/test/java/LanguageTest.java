@@ -1,5 +1,4 @@
 import java.io.IOException;
-import java.lang.reflect.Array;
 import java.lang.reflect.Constructor;
 import java.lang.reflect.Field;
 import java.lang.reflect.Method;
@@ -7,11 +6,7 @@ import java.lang.reflect.Modifier;
 import java.nio.charset.StandardCharsets;
 import java.nio.file.Files;
 import java.nio.file.Path;
-import java.util.ArrayDeque;
 import java.util.Arrays;
-import java.util.Deque;
-import java.util.IdentityHashMap;
-import java.util.Map;
 import java.util.Set;
 import java.util.TreeSet;
 import java.util.regex.Matcher;
@@ -103,51 +98,16 @@ public final class LanguageTest {
     /** What an object holds stays the same, however it is used, and so small that many fit in a room. */
     private static void room() throws IllegalAccessException {
         TaintHouse house = new TaintHouse();
-        long[] before = held(house);
+        long[] before = Room.held(house);
         Tester.read(house, "class A { field x ref; method f() none { x: push 3; refs; pop; new A; pop; source 1; sink 1;"
             + " goto x; } method g() none { call A g; ret; } }");
         house.run(0);
         house.run(1);
         Tester.read(house, "class A { } class A { }");
         Tester.read(house, "class A");
-        long[] after = held(house);
+        long[] after = Room.held(house);
         T.due("calls keep no more objects and arrays", after[0] <= before[0], true);
         T.due("objects and arrays are few", before[0] < 300, true);
         T.due("fields and elements " + before[1], before[1] < 60000, true);
-    }
-
-    private static long[] held(Object root) throws IllegalAccessException {
-        Map<Object, Object> seen = new IdentityHashMap<>();
-        Deque<Object> open = new ArrayDeque<>();
-        open.add(root);
-        seen.put(root, root);
-        long elements = 0;
-        while (!open.isEmpty()) {
-            Object one = open.remove();
-            Class<?> c = one.getClass();
-            if (c.isArray()) {
-                elements += Array.getLength(one);
-                for (int i = 0; i < Array.getLength(one) && !c.getComponentType().isPrimitive(); i++) {
-                    reach(Array.get(one, i), seen, open);
-                }
-            } else {
-                for (Field f : c.getDeclaredFields()) {
-                    if (!Modifier.isStatic(f.getModifiers())) {
-                        elements++;
-                        f.setAccessible(true);
-                        if (!f.getType().isPrimitive()) {
-                            reach(f.get(one), seen, open);
-                        }
-                    }
-                }
-            }
-        }
-        return new long[] {seen.size(), elements};
-    }
-
-    private static void reach(Object one, Map<Object, Object> seen, Deque<Object> open) {
-        if (one != null && seen.put(one, one) == null) {
-            open.add(one);
-        }
     }
 }

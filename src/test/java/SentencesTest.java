@@ -6,14 +6,15 @@ import java.util.Arrays;
 import java.util.Map;
 import java.util.Set;
 
-/** That each sentence of the document's terms and promises has a test: all words of it are told by the edge tests. */
+/** That each sentence of the document has a test: all words from its first line on, up to what is not promised. */
 public final class SentencesTest {
     private static final Path DOCUMENT = Path.of("../shared/DOC.md");
     /** What stands between the sentences. */
-    private static final Set<String> HEADINGS = Set.of("TEXTS", "TOKENS:", "==== II. RUNS", "==== III. TOLD CLOSER");
+    private static final Set<String> HEADINGS = Set.of("}", "} TEXTS", "TOKENS:", "==== II. RUNS", "==== III. TOLD CLOSER");
 
     public static void main(String[] args) throws IOException {
         Tester tester = new Tester();
+        new FaceEdgeTest(tester).all();
         new TapeEdgeTest(tester).all();
         new TokenEdgeTest(tester).all();
         new GrammarEdgeTest(tester).all();
@@ -34,7 +35,7 @@ public final class SentencesTest {
     private static void compare(Tester tester, String document) {
         Map<String, Integer> asks = Map.copyOf(tester.asksBySentence());
         String whole = oneLine(document);
-        String words = oneLine(termsAndPromises(document));
+        String words = oneLine(whatIsPromised(document));
         boolean[] told = new boolean[words.length()];
         for (Map.Entry<String, Integer> one : asks.entrySet()) {
             tester.sentence(one.getKey());
@@ -55,8 +56,8 @@ public final class SentencesTest {
         }
     }
 
-    private static String termsAndPromises(String document) {
-        String part = document.substring(document.indexOf("## Terms"), document.indexOf("## Not promised"));
+    private static String whatIsPromised(String document) {
+        String part = document.substring(document.indexOf("## What it is"), document.indexOf("## Not promised"));
         StringBuilder lines = new StringBuilder();
         for (String line : part.split("\n")) {
             boolean heading = line.startsWith("#") || line.startsWith("```");
