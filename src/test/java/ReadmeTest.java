@@ -1,22 +1,18 @@
 import com.sun.management.ThreadMXBean;
-import java.io.ByteArrayOutputStream;
 import java.io.IOException;
-import java.io.PrintStream;
 import java.lang.management.ManagementFactory;
 import java.lang.reflect.Method;
 import java.lang.reflect.Modifier;
-import java.net.URL;
-import java.net.URLClassLoader;
 import java.nio.charset.StandardCharsets;
 import java.nio.file.Files;
 import java.nio.file.Path;
+import java.util.Comparator;
 import java.util.Set;
 import java.util.TreeSet;
 import java.util.regex.Matcher;
 import java.util.regex.Pattern;
 import java.util.stream.Collectors;
 import java.util.stream.Stream;
-import javax.tools.ToolProvider;
 
 /** That what README.md says holds: its example, and all that its tables name. */
 public final class ReadmeTest {
@@ -24,7 +20,7 @@ public final class ReadmeTest {
     private static final String TEXT = "class A { field x ref; method f() none { x: push 3; refs; pop; new A; pop; source 1;"
         + " sink 1; push 1; push 0; div; pop; goto x; y: pop; goto x; try x y y Fault; } method g() none { call A g; ret; } }";
 
-    public static void main(String[] args) throws Exception {
+    public static void main(String[] args) throws IOException, InterruptedException, IllegalAccessException {
         String readme = Files.readString(Path.of("README.md"), StandardCharsets.UTF_8);
         example(readme);
         calls(readme);
@@ -34,43 +30,36 @@ public final class ReadmeTest {
         T.finish();
     }
 
-    /** The n-th block of this language, from 0 on. */
-    private static String block(String readme, String language, int n) {
+    /** The first block of this language. */
+    private static String block(String readme, String language) {
         Matcher m = Pattern.compile("(?s)```" + language + "\n(.*?)```").matcher(readme);
-        for (int i = 0; i <= n; i++) {
-            if (!m.find()) {
-                return "";
+        return m.find() ? m.group(1) : "";
+    }
+
+    /** As README.md says that it is compiled and run, but for where its file and the classes are. */
+    private static void example(String readme) throws IOException, InterruptedException {
+        Path room = Files.createTempDirectory("readme");
+        Path file = Files.writeString(room.resolve("Example.java"), block(readme, "java"), StandardCharsets.UTF_8);
+        String out = room.resolve("out").toString();
+        printedBy("javac", "-Xlint:all", "-Werror", "-d", out, "src/main/java/TaintHouse.java", file.toString());
+        String printed = printedBy("java", "-cp", out, "Example");
+        T.due("whether the example prints what is told, but: " + printed, printed.equals(block(readme, "text")), true);
+        remove(room);
+    }
+
+    private static String printedBy(String... command) throws IOException, InterruptedException {
+        Process process = new ProcessBuilder(command).redirectError(ProcessBuilder.Redirect.INHERIT).start();
+        String printed = new String(process.getInputStream().readAllBytes(), StandardCharsets.UTF_8);
+        T.due("exit code of " + command[0], process.waitFor(), 0);
+        return printed;
+    }
+
+    private static void remove(Path room) throws IOException {
+        try (Stream<Path> all = Files.walk(room)) {
+            for (Path one : all.sorted(Comparator.reverseOrder()).toList()) {
+                Files.delete(one);
             }
         }
-        return m.group(1);
-    }
-
-    private static void example(String readme) throws Exception {
-        Path out = Files.createTempDirectory("readme");
-        Path file = out.resolve("Example.java");
-        Files.writeString(file, block(readme, "java", 0), StandardCharsets.UTF_8);
-        int code = ToolProvider.getSystemJavaCompiler().run(null, null, null, "-Xlint:all", "-cp",
-            System.getProperty("java.class.path"), "-d", out.toString(), file.toString());
-        T.due("exit code of javac", code, 0);
-        if (code == 0) {
-            String printed = printedBy(out);
-            T.due("whether the example prints what is told, but: " + printed, printed.equals(block(readme, "text", 0)), true);
-        }
-        Files.deleteIfExists(file);
-        Files.deleteIfExists(out.resolve("Example.class"));
-        Files.delete(out);
-    }
-
-    private static String printedBy(Path out) throws Exception {
-        PrintStream before = System.out;
-        ByteArrayOutputStream bytes = new ByteArrayOutputStream();
-        try (URLClassLoader loader = new URLClassLoader(new URL[] {out.toUri().toURL()})) {
-            System.setOut(new PrintStream(bytes, true, StandardCharsets.UTF_8));
-            loader.loadClass("Example").getMethod("main", String[].class).invoke(null, (Object) new String[0]);
-        } finally {
-            System.setOut(before);
-        }
-        return bytes.toString(StandardCharsets.UTF_8).replace("\r", "");
     }
 
     /** What stands as code in the first column of the table with this heading. */
@@ -127,16 +116,20 @@ public final class ReadmeTest {
         long told = Long.parseLong(m.group(1) + m.group(2));
         long held = Room.held(new TaintHouse())[1];
         T.due("whether an object has some " + told + " fields and elements, but " + held, Math.abs(told - held) < 1000, true);
+        if (ManagementFactory.getThreadMXBean() instanceof ThreadMXBean threads) {
+            T.due("bytes that calls made", bytesMade(threads), 0);
+        }
+    }
+
+    private static long bytesMade(ThreadMXBean threads) {
         TaintHouse house = new TaintHouse();
         // The first round is not looked at, since the machine loads and links what it calls.
         callAll(house);
-        ThreadMXBean threads = (ThreadMXBean) ManagementFactory.getThreadMXBean();
-        long before = threads.getCurrentThreadAllocatedBytes();
-        long empty = threads.getCurrentThreadAllocatedBytes() - before;
-        before = threads.getCurrentThreadAllocatedBytes();
+        long start = threads.getCurrentThreadAllocatedBytes();
+        long asked = threads.getCurrentThreadAllocatedBytes();
         callAll(house);
-        long made = threads.getCurrentThreadAllocatedBytes() - before - empty;
-        T.due("bytes that calls made", made, 0);
+        long end = threads.getCurrentThreadAllocatedBytes();
+        return end - asked - (asked - start);
     }
 
     private static void callAll(TaintHouse house) {
